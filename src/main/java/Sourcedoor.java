@@ -131,7 +131,7 @@ public final class Sourcedoor {
   private final Linker linker = new Linker(rows, world);
   private final Judge judge = new Judge(rows, tree, world, linker);
   private final Flow flow = new Flow(rows, tree, world, linker, judge);
-  private final Machine machine = new Machine(rows, tree, world, linker, judge, flow);
+  private final Machine machine = new Machine(world, tree, linker, judge, flow);
   private final Outcome last = new Outcome();
   private final Outcome trial = new Outcome();
   private final Outcome other = new Outcome();
@@ -149,7 +149,8 @@ public final class Sourcedoor {
 
   // ---- units
 
-  public int type(int unit, int a, int b, int c, int d, int e) {
+  public int type(int unit, int a, int b, int c, int d, int e)
+      throws IndexOutOfBoundsException, IllegalArgumentException, IllegalStateException {
     if (!isUnit(unit)) throw new IndexOutOfBoundsException();
     if (!mayType(a) || !mayType(b) || !mayType(c) || !mayType(d) || !mayType(e)) throw new IllegalArgumentException();
     int more = (a == NONE ? 0 : 1) + (b == NONE ? 0 : 1) + (c == NONE ? 0 : 1) + (d == NONE ? 0 : 1) + (e == NONE ? 0 : 1);
@@ -163,7 +164,7 @@ public final class Sourcedoor {
     return rows.many[unit];
   }
 
-  public int cut(int unit, int many) {
+  public int cut(int unit, int many) throws IndexOutOfBoundsException, IllegalArgumentException {
     if (!isUnit(unit)) throw new IndexOutOfBoundsException();
     if (many < 1 || many > MOST_TOKENS) throw new IllegalArgumentException();
     rows.many[unit] = Math.max(0, rows.many[unit] - many);
@@ -171,7 +172,7 @@ public final class Sourcedoor {
     return rows.many[unit];
   }
 
-  public int sample(int unit, int sample) {
+  public int sample(int unit, int sample) throws IndexOutOfBoundsException, IllegalArgumentException {
     if (!isUnit(unit)) throw new IndexOutOfBoundsException();
     if (sample < 0 || sample > 4) throw new IllegalArgumentException();
     rows.fill(unit, sampleTokens(sample));
@@ -179,7 +180,7 @@ public final class Sourcedoor {
     return rows.many[unit];
   }
 
-  public int change(int unit, int place, int token) {
+  public int change(int unit, int place, int token) throws IndexOutOfBoundsException, IllegalArgumentException {
     if (!isPlace(unit, place)) throw new IndexOutOfBoundsException();
     if (!isToken(token)) throw new IllegalArgumentException();
     int old = rows.token[unit * ROW + place];
@@ -188,7 +189,8 @@ public final class Sourcedoor {
     return old;
   }
 
-  public int insert(int unit, int place, int token) {
+  public int insert(int unit, int place, int token)
+      throws IndexOutOfBoundsException, IllegalArgumentException, IllegalStateException {
     if (!isUnit(unit) || place < 0 || place > rows.many[unit]) throw new IndexOutOfBoundsException();
     if (!isToken(token)) throw new IllegalArgumentException();
     if (rows.many[unit] >= MOST_TOKENS) throw new IllegalStateException();
@@ -197,7 +199,7 @@ public final class Sourcedoor {
     return rows.many[unit];
   }
 
-  public int remove(int unit, int place) {
+  public int remove(int unit, int place) throws IndexOutOfBoundsException {
     if (!isPlace(unit, place)) throw new IndexOutOfBoundsException();
     int old = rows.token[unit * ROW + place];
     rows.takeOut(unit, place);
@@ -205,19 +207,19 @@ public final class Sourcedoor {
     return old;
   }
 
-  public int swap(int unit, int other) {
+  public int swap(int unit, int other) throws IndexOutOfBoundsException {
     if (!isUnit(unit) || !isUnit(other)) throw new IndexOutOfBoundsException();
     rows.exchange(unit, other);
     changed();
     return rows.many[unit];
   }
 
-  public int token(int unit, int place) {
+  public int token(int unit, int place) throws IndexOutOfBoundsException {
     if (!isPlace(unit, place)) throw new IndexOutOfBoundsException();
     return rows.token[unit * ROW + place];
   }
 
-  public String text(int unit) {
+  public String text(int unit) throws IndexOutOfBoundsException {
     if (!isUnit(unit)) throw new IndexOutOfBoundsException();
     world.begin();
     for (int place = 0; place < rows.many[unit]; place++) {
@@ -227,7 +229,7 @@ public final class Sourcedoor {
     return world.text.toString();
   }
 
-  public int ofUnit(int unit, int what) {
+  public int ofUnit(int unit, int what) throws IndexOutOfBoundsException, IllegalArgumentException {
     if (!isUnit(unit)) throw new IndexOutOfBoundsException();
     if (what < 0 || what > 5) throw new IllegalArgumentException();
     ready();
@@ -236,20 +238,20 @@ public final class Sourcedoor {
 
   // ---- faults
 
-  public int fault(int unit, int k, int what) {
+  public int fault(int unit, int k, int what) throws IndexOutOfBoundsException, IllegalArgumentException {
     if (!isUnit(unit)) throw new IndexOutOfBoundsException();
     if (k < 0 || what < 0 || what > 1) throw new IllegalArgumentException();
     ready();
     return rows.faultOf(unit, k, what);
   }
 
-  public int faultAt(int unit, int place) {
+  public int faultAt(int unit, int place) throws IndexOutOfBoundsException {
     if (!isUnit(unit)) throw new IndexOutOfBoundsException();
     ready();
     return place < 0 || place >= ROW ? 0 : rows.smallestAt(unit * ROW + place);
   }
 
-  public String faults(int unit) {
+  public String faults(int unit) throws IndexOutOfBoundsException {
     if (!isUnit(unit)) throw new IndexOutOfBoundsException();
     ready();
     world.begin();
@@ -259,7 +261,7 @@ public final class Sourcedoor {
 
   // ---- types
 
-  public String imports(int unit) {
+  public String imports(int unit) throws IndexOutOfBoundsException {
     if (!isUnit(unit)) throw new IndexOutOfBoundsException();
     ready();
     world.begin();
@@ -273,14 +275,14 @@ public final class Sourcedoor {
     return world.text.toString();
   }
 
-  public int main(int unit) {
+  public int main(int unit) throws IndexOutOfBoundsException {
     if (!isUnit(unit)) throw new IndexOutOfBoundsException();
     ready();
     int m = world.mainOf(unit);
     return m == NONE ? NONE : world.members[m].at - unit * ROW;
   }
 
-  public String types(int unit) {
+  public String types(int unit) throws IndexOutOfBoundsException {
     if (!isUnit(unit)) throw new IndexOutOfBoundsException();
     ready();
     world.begin();
@@ -288,7 +290,7 @@ public final class Sourcedoor {
     return world.text.toString();
   }
 
-  public int ofType(int unit, int k, int what) {
+  public int ofType(int unit, int k, int what) throws IndexOutOfBoundsException, IllegalArgumentException {
     ready();
     int t = typeThere(unit, k);
     if (t == NONE) throw new IndexOutOfBoundsException();
@@ -296,7 +298,7 @@ public final class Sourcedoor {
     return factOfType(t, what);
   }
 
-  public String above(int unit, int k) {
+  public String above(int unit, int k) throws IndexOutOfBoundsException {
     ready();
     int t = typeThere(unit, k);
     if (t == NONE) throw new IndexOutOfBoundsException();
@@ -305,7 +307,7 @@ public final class Sourcedoor {
     return world.text.toString();
   }
 
-  public boolean isSubtype(int unit, int k, int other, int m) {
+  public boolean isSubtype(int unit, int k, int other, int m) throws IndexOutOfBoundsException {
     ready();
     int one = typeThere(unit, k);
     int two = typeThere(other, m);
@@ -313,7 +315,7 @@ public final class Sourcedoor {
     return world.under(one, two);
   }
 
-  public String methods(int unit, int k) {
+  public String methods(int unit, int k) throws IndexOutOfBoundsException {
     ready();
     int t = typeThere(unit, k);
     if (t == NONE) throw new IndexOutOfBoundsException();
@@ -322,7 +324,7 @@ public final class Sourcedoor {
     return world.text.toString();
   }
 
-  public String field(int unit, int k, int name) {
+  public String field(int unit, int k, int name) throws IndexOutOfBoundsException, IllegalArgumentException {
     ready();
     int t = typeThere(unit, k);
     if (t == NONE) throw new IndexOutOfBoundsException();
@@ -337,7 +339,7 @@ public final class Sourcedoor {
     return world.text.toString();
   }
 
-  public String own(int unit, int k) {
+  public String own(int unit, int k) throws IndexOutOfBoundsException {
     ready();
     int t = typeThere(unit, k);
     if (t == NONE) throw new IndexOutOfBoundsException();
@@ -352,7 +354,7 @@ public final class Sourcedoor {
     return world.text.toString();
   }
 
-  public String constructors(int unit, int k) {
+  public String constructors(int unit, int k) throws IndexOutOfBoundsException {
     ready();
     int t = typeThere(unit, k);
     if (t == NONE) throw new IndexOutOfBoundsException();
@@ -365,7 +367,7 @@ public final class Sourcedoor {
     return world.text.toString();
   }
 
-  public String subtypes(int unit, int k) {
+  public String subtypes(int unit, int k) throws IndexOutOfBoundsException {
     ready();
     int t = typeThere(unit, k);
     if (t == NONE) throw new IndexOutOfBoundsException();
@@ -378,7 +380,7 @@ public final class Sourcedoor {
     return world.text.toString();
   }
 
-  public int overridden(int unit, int place) {
+  public int overridden(int unit, int place) throws IndexOutOfBoundsException {
     if (!isPlace(unit, place)) throw new IndexOutOfBoundsException();
     ready();
     int m = world.memberAt(unit * ROW + place);
@@ -393,7 +395,7 @@ public final class Sourcedoor {
 
   // ---- names, expressions, flow
 
-  public String meant(int unit, int place) {
+  public String meant(int unit, int place) throws IndexOutOfBoundsException {
     if (!isPlace(unit, place)) throw new IndexOutOfBoundsException();
     ready();
     world.begin();
@@ -401,7 +403,7 @@ public final class Sourcedoor {
     return world.text.toString();
   }
 
-  public String kind(int unit, int place) {
+  public String kind(int unit, int place) throws IndexOutOfBoundsException {
     if (!isPlace(unit, place)) throw new IndexOutOfBoundsException();
     ready();
     world.begin();
@@ -409,7 +411,7 @@ public final class Sourcedoor {
     return world.text.toString();
   }
 
-  public String value(int unit, int place) {
+  public String value(int unit, int place) throws IndexOutOfBoundsException {
     if (!isPlace(unit, place)) throw new IndexOutOfBoundsException();
     ready();
     world.begin();
@@ -417,19 +419,19 @@ public final class Sourcedoor {
     return world.text.toString();
   }
 
-  public int phase(int unit, int place) {
+  public int phase(int unit, int place) throws IndexOutOfBoundsException {
     if (!isPlace(unit, place)) throw new IndexOutOfBoundsException();
     ready();
     return judge.phase[unit * ROW + place];
   }
 
-  public int applies(int unit, int place) {
+  public int applies(int unit, int place) throws IndexOutOfBoundsException {
     if (!isPlace(unit, place)) throw new IndexOutOfBoundsException();
     ready();
     return judge.applies[unit * ROW + place];
   }
 
-  public int items(int unit) {
+  public int items(int unit) throws IndexOutOfBoundsException {
     if (!isUnit(unit)) throw new IndexOutOfBoundsException();
     ready();
     int many = 0;
@@ -439,20 +441,20 @@ public final class Sourcedoor {
     return many;
   }
 
-  public int reached(int unit, int place) {
+  public int reached(int unit, int place) throws IndexOutOfBoundsException {
     if (!isPlace(unit, place)) throw new IndexOutOfBoundsException();
     ready();
     return flow.reachOf(unit * ROW + place);
   }
 
-  public int isSet(int unit, int place, int name) {
+  public int isSet(int unit, int place, int name) throws IndexOutOfBoundsException, IllegalArgumentException {
     if (!isPlace(unit, place)) throw new IndexOutOfBoundsException();
     if (name < 0 || name >= NAMES) throw new IllegalArgumentException();
     ready();
     return flow.setOf(unit * ROW + place, name);
   }
 
-  public String raised(int unit, int place) {
+  public String raised(int unit, int place) throws IndexOutOfBoundsException {
     if (!isPlace(unit, place)) throw new IndexOutOfBoundsException();
     ready();
     world.begin();
@@ -462,7 +464,7 @@ public final class Sourcedoor {
 
   // ---- runs
 
-  public int run(int unit, int x, int y) {
+  public int run(int unit, int x, int y) throws IndexOutOfBoundsException {
     if (!isUnit(unit)) throw new IndexOutOfBoundsException();
     ready();
     int m = runnable(unit);
@@ -479,7 +481,7 @@ public final class Sourcedoor {
     return last.told.toString();
   }
 
-  public String told(int k) {
+  public String told(int k) throws IllegalArgumentException {
     if (k < 0) throw new IllegalArgumentException();
     if (k >= last.count[O_TOLD]) return "-";
     world.begin();
@@ -491,12 +493,12 @@ public final class Sourcedoor {
     return last.result.toString();
   }
 
-  public int outcome(int what) {
+  public int outcome(int what) throws IllegalArgumentException {
     if (what < 0 || what >= OUTCOMES) throw new IllegalArgumentException();
     return last.count[what];
   }
 
-  public boolean isTurned(int unit, int x, int y) {
+  public boolean isTurned(int unit, int x, int y) throws IndexOutOfBoundsException {
     if (!isUnit(unit)) throw new IndexOutOfBoundsException();
     ready();
     int m = runnable(unit);
@@ -522,7 +524,7 @@ public final class Sourcedoor {
     return knocks;
   }
 
-  public int house(int what) {
+  public int house(int what) throws IllegalArgumentException {
     if (what < 0 || what > 6) throw new IllegalArgumentException();
     ready();
     return factOfHouse(what);
@@ -583,7 +585,7 @@ public final class Sourcedoor {
   }
 
   private static boolean isRef(int token) {
-    return isName(token) || isKnown(token);
+    return token >= FIRST_KNOWN && token <= LAST_KNOWN || token >= FIRST_NAME && token < FIRST_NAME + NAMES;
   }
 
   private static boolean isPlainKind(int token) {
@@ -983,22 +985,25 @@ public final class Sourcedoor {
       boolean good = bad == NONE && at < end && this.token[base + at] == token && !(opens && open == MOST_OPEN);
       if (opens) open++;
       if (token == CLOSE || token == CLOSE_BRACE) open--;
-      return good ? goOn() : fail();
+      if (good) at++;
+      else if (bad == NONE) bad = at;
+      return good;
     }
 
     boolean takeName() {
-      return isName(peek(0)) ? goOn() : fail();
+      return step(isName(peek(0)));
     }
 
     /** Takes a KIND, or a REF alone. */
     boolean takeKind(boolean refAlone) {
       int next = peek(0);
-      return isRef(next) || !refAlone && isPlainKind(next) ? goOn() : fail();
+      return step(isRef(next) || !refAlone && isPlainKind(next));
     }
 
-    private boolean goOn() {
-      at++;
-      return true;
+    private boolean step(boolean good) {
+      if (good) at++;
+      else if (bad == NONE) bad = at;
+      return good;
     }
   }
 
@@ -1285,8 +1290,9 @@ public final class Sourcedoor {
     /** The type that the REF at a place means; NONE if it means nothing. */
     int typeAt(int at) {
       int token = rows.token[at];
-      if (isKnown(token)) return token - FIRST_KNOWN;
-      return isName(token) ? means[at / ROW * NAMES + token - FIRST_NAME] : NONE;
+      if (token >= FIRST_KNOWN && token <= LAST_KNOWN) return token - FIRST_KNOWN;
+      boolean isName = token >= FIRST_NAME && token < FIRST_NAME + NAMES;
+      return isName ? means[at / ROW * NAMES + token - FIRST_NAME] : NONE;
     }
 
     /** The kind that the token at a place means. */
@@ -1312,7 +1318,7 @@ public final class Sourcedoor {
     }
 
     boolean isInterface(int t) {
-      return types[t].is(IS_INTERFACE);
+      return (types[t].flags & IS_INTERFACE) != 0;
     }
 
     /** The class above a class. */
@@ -1322,7 +1328,7 @@ public final class Sourcedoor {
 
     /** Whether a member is one of its type: of that sort, and not twice. */
     boolean isOwn(int m, int sort) {
-      return members[m].sort == sort && !members[m].is(IS_TWICE);
+      return members[m].sort == sort && (members[m].flags & IS_TWICE) == 0;
     }
 
     int ownMembers(int t, int sort) {
@@ -3804,7 +3810,7 @@ public final class Sourcedoor {
         boolean calls = tree.sort[at] >= E_CALL && tree.sort[at] <= E_START && judge.sense[at] == S_CALL;
         if (calls) raiseAll(d, judge.meant[at], at, tree.zone[at]);
         int thrown = tree.work[at] == W_THROW ? judge.kind[tree.root[at]] : NO_KIND;
-        if (thrown >= K_REF) raise(d, thrown - K_REF, at, tree.zone[at]);
+        if (thrown >= K_REF && getsOut(thrown - K_REF, tree.zone[at])) note(d, thrown - K_REF, at);
         if (tree.work[at] == W_CATCH && !writes) checkCatch(at);
       }
     }
@@ -3814,23 +3820,32 @@ public final class Sourcedoor {
       Decl method = world.members[m];
       for (int k = 0; k < method.throwing; k++) {
         int t = world.typeAt(world.refAt[method.firstThrow + k]);
-        if (t != NONE) raise(d, t, at, zone);
+        if (t != NONE && getsOut(t, zone)) note(d, t, at);
       }
     }
 
     /** Goes from try to try outwards, till what is raised is caught, or gets out. */
-    private void raise(Decl d, int t, int at, int innermost) {
+    private boolean getsOut(int t, int innermost) {
       int zone = innermost;
       for (int k = 0; k < MOST_TOKENS && zone != NONE; k++) {
         int around = zone / 4;
-        if (zone % 4 == IN_TRIED && isCaught(around, t)) return;
+        if (zone % 4 == IN_TRIED && isCaught(around, t)) return false;
         boolean isLost = tree.other[around] != NONE && (state[around] & FINALLY_COMPLETES) == 0;
-        if (zone % 4 != IN_FINALLY && isLost) return;
+        if (zone % 4 != IN_FINALLY && isLost) return false;
         zone = tree.zone[around];
       }
+      return true;
+    }
+
+    private void note(Decl d, int t, int at) {
       if (!world.isChecked(t)) return;
-      if (writes) writeOnce(t);
-      else if (!linker.isThrownBy(d, t)) rows.mark(at, F_UNCAUGHT);
+      if (!writes) {
+        if (!linker.isThrownBy(d, t)) rows.mark(at, F_UNCAUGHT);
+      } else if ((written[t / 64] >> t % 64 & 1) == 0) {
+        written[t / 64] |= 1L << t % 64;
+        world.gap();
+        world.writeFull(t);
+      }
     }
 
     private boolean isCaught(int around, int t) {
@@ -3842,13 +3857,6 @@ public final class Sourcedoor {
         if (world.under(t, ref) || world.under(ref, t)) state[c] |= IS_HIT;
       }
       return caught;
-    }
-
-    private void writeOnce(int t) {
-      if ((written[t / 64] >> t % 64 & 1) != 0) return;
-      written[t / 64] |= 1L << t % 64;
-      world.gap();
-      world.writeFull(t);
     }
 
     private void checkCatch(int at) {
@@ -3913,16 +3921,61 @@ public final class Sourcedoor {
 
   /** A CALL that is under way; the first one stands for what is done around all CALLS. */
   private static final class Frame {
+    // More than the variables, and the tries in one another, that the text of a method has room for.
+    static final int MOST_LOCALS = 80, MOST_TRIES = 16;
+
+    final long[] locals = new long[MOST_LOCALS];
+    final boolean[] has = new boolean[MOST_LOCALS];
+    final int[] tryAt = new int[MOST_TRIES];
+    final int[] tryPart = new int[MOST_TRIES];
+    // What a finally has to go on with: see Machine.
+    final int[] tryWhy = new int[MOST_TRIES];
+    final long[] tryCarried = new long[MOST_TRIES];
+    final int[] tryLoop = new int[MOST_TRIES];
+    int tries;
     Decl member;
     long self;
     int back;
-    int base;
-    int vars;
     int floor;
-    int firstTry;
     int field;
     int resume;
     int wants;
+
+    void begin(Decl member, long self, int back, int floor, int wants) {
+      this.member = member;
+      this.self = self;
+      this.back = back;
+      this.floor = floor;
+      this.wants = wants;
+      tries = 0;
+      field = NONE;
+      resume = 0;
+      for (int k = 0; k < MOST_LOCALS; k++) has[k] = false;
+    }
+
+    /** The place of a variable among those of its method. */
+    int placeOf(int v) {
+      return Math.min(Math.max(0, v - member.firstVar), MOST_LOCALS - 1);
+    }
+
+    void put(int v, long value) {
+      locals[placeOf(v)] = value;
+      has[placeOf(v)] = true;
+    }
+
+    void enterTry(int at) {
+      if (tries >= MOST_TRIES) return;
+      tryAt[tries] = at;
+      tryPart[tries] = IN_TRIED;
+      tries++;
+    }
+
+    void enterFinally(int why, long carried, int loop) {
+      tryPart[tries - 1] = IN_FINALLY;
+      tryWhy[tries - 1] = why;
+      tryCarried[tries - 1] = carried;
+      tryLoop[tries - 1] = loop;
+    }
   }
 
   /**
@@ -3932,28 +3985,23 @@ public final class Sourcedoor {
   private static final class Machine {
     private static final int NOTHING = 0, A_VALUE = 1, AN_OBJECT = 2;
     private static final int THROWS_IT = 1, RETURNS = 2, JUMPS = 3;
-    private static final int TRY_AT = 0, TRY_PART = 1, TRY_WHY = 2, TRY_CARRIED = 3, TRY_LOOP = 4, TRY_ROWS = 5;
-    private static final int MOST_TRIES = 256, STACK = 4096, LOCALS = 4096, MOST_HEAP = 1 << 20, MOST_TURNS = 20000000;
+    private static final int STACK = 4096, MOST_HEAP = 1 << 20, MOST_TURNS = 20000000;
     private static final int BOX = 2, OBJECT = 1;
 
-    final Rows rows;
-    final Tree tree;
     final World world;
+    final Tree tree;
     final Linker linker;
     final Judge judge;
     final Flow flow;
     final Frame[] frames = new Frame[MOST_CALLS + 1];
+    int depth;
     final long[] stack = new long[STACK];
-    final long[] locals = new long[LOCALS];
-    final boolean[] has = new boolean[LOCALS];
+    int top;
     final long[] statics = new long[MOST_MEMBERS];
-    final long[][] tries = new long[TRY_ROWS][MOST_TRIES];
-    final long[] thrown = new long[2048];
     long[] heap = new long[1024];
     int used;
-    int tryCount;
-    int depth;
-    int top;
+    // A bit for each object: whether it was thrown already.
+    final long[] thrown = new long[2048];
     int pc;
     int main;
     int state;
@@ -3964,10 +4012,9 @@ public final class Sourcedoor {
     boolean watching;
     boolean sound;
 
-    Machine(Rows rows, Tree tree, World world, Linker linker, Judge judge, Flow flow) {
-      this.rows = rows;
-      this.tree = tree;
+    Machine(World world, Tree tree, Linker linker, Judge judge, Flow flow) {
       this.world = world;
+      this.tree = tree;
       this.linker = linker;
       this.judge = judge;
       this.flow = flow;
@@ -4007,20 +4054,12 @@ public final class Sourcedoor {
       state = RUNNING;
       why = 0;
       used = 0;
-      tryCount = 0;
       pc = 0;
       stack[0] = x;
       stack[1] = y;
       top = 2;
       depth = 0;
-      Frame first = frames[0];
-      first.member = world.members[m];
-      first.self = 0;
-      first.base = 0;
-      first.vars = 0;
-      first.floor = 2;
-      first.firstTry = 0;
-      first.field = NONE;
+      frames[0].begin(world.members[m], 0, 0, top, NOTHING);
       Arrays.fill(thrown, 0L);
       for (int f = 0; f < world.memberCount; f++) statics[f] = world.members[f].fixed ? world.members[f].value : 0;
       for (int t = KNOWN_TYPES; t < world.typeCount; t++) giveSlots(t);
@@ -4183,7 +4222,7 @@ public final class Sourcedoor {
       boolean isTrue = pop() != 0;
       if (tree.sort[at] == E_CHOICE) {
         if (!isTrue) pc = tree.jump[at] + 1;
-      } else if (isTrue == (rows.token[at] == OR)) {
+      } else if (isTrue == (world.rows.token[at] == OR)) {
         push(isTrue ? 1 : 0);
         pc = tree.other[at] + 1;
         see(at);
@@ -4264,14 +4303,10 @@ public final class Sourcedoor {
         push(fieldHere(judge.meant[at]));
         return;
       }
-      int local = localOf(judge.meant[at]);
-      if (!has[local]) sound = false;
-      push(locals[local]);
-    }
-
-    private int localOf(int v) {
       Frame frame = frames[depth];
-      return Math.min(Math.max(0, frame.base + v - frame.member.firstVar), LOCALS - 1);
+      int local = frame.placeOf(judge.meant[at]);
+      if (!frame.has[local]) sound = false;
+      push(frame.locals[local]);
     }
 
     /** A field that is named alone: a static one, or one of this. */
@@ -4306,11 +4341,12 @@ public final class Sourcedoor {
     }
 
     private void binary(int at, int one, int two) {
-      boolean ints = one < K_NULL || two < K_NULL;
+      // Two Integers are computed with by their values; as they are compared, they are what they are.
+      boolean ints = tree.sort[at] != E_SAME || one < K_NULL || two < K_NULL;
       if (ints && (!fit(top - 2, one, K_LONG) || !fit(top - 1, two, K_LONG))) return;
       long right = pop();
       long left = pop();
-      int token = rows.token[at];
+      int token = world.rows.token[at];
       boolean divides = token == DIVIDE || token == REST;
       if (divides && right == 0) throwKnown(T_DIVIDE);
       else push(Judge.wrap(judge.kind[at], Judge.compute(token, left, right)));
@@ -4324,8 +4360,7 @@ public final class Sourcedoor {
       value = Judge.wrap(kind, value);
       int index = judge.meant[left];
       if (judge.sense[left] == S_VAR) {
-        locals[localOf(index)] = value;
-        has[localOf(index)] = true;
+        frames[depth].put(index, value);
       } else if (world.members[index].is(IS_STATIC)) {
         statics[index] = value;
       } else {
@@ -4384,31 +4419,18 @@ public final class Sourcedoor {
 
     private void enter(int m, long self, int floor, int wants) {
       Decl d = world.members[m];
-      int base = frames[depth].base + frames[depth].vars;
-      int vars = d.lastVar - d.firstVar;
       if (out.count[O_STEPS] >= MOST_STEPS) {
         stop("LONG");
         return;
       }
-      if (depth >= MOST_CALLS || base + vars > LOCALS) {
+      if (depth >= MOST_CALLS) {
         stop("DEEP");
         return;
       }
       depth++;
       Frame frame = frames[depth];
-      frame.member = d;
-      frame.self = self;
-      frame.back = pc;
-      frame.base = base;
-      frame.vars = vars;
-      frame.floor = floor;
-      frame.firstTry = tryCount;
-      frame.field = NONE;
-      frame.wants = wants;
-      for (int k = 0; k < vars; k++) {
-        has[base + k] = k < d.params;
-        locals[base + k] = k < d.params ? stack[top - d.params + k] : 0;
-      }
+      frame.begin(d, self, pc, floor, wants);
+      for (int k = 0; k < d.params; k++) frame.put(d.firstVar + k, stack[top - d.params + k]);
       top = floor;
       pc = d.script;
       out.count[O_STEPS]++;
@@ -4454,10 +4476,8 @@ public final class Sourcedoor {
     }
 
     private void local(int v, int root) {
-      int local = localOf(v);
-      has[local] = root != NONE;
-      if (root == NONE || !fit(top - 1, judge.kind[root], world.vars[v].kind)) return;
-      locals[local] = pop();
+      frames[depth].has[frames[depth].placeOf(v)] = false;
+      if (root != NONE && fit(top - 1, judge.kind[root], world.vars[v].kind)) frames[depth].put(v, pop());
     }
 
     private void jumpOrTry(int event, int at) {
@@ -4481,23 +4501,16 @@ public final class Sourcedoor {
           told(tree.root[at]);
           break;
         case EV_TRY:
-          if (tryCount >= MOST_TRIES) return;
-          tries[TRY_AT][tryCount] = at;
-          tries[TRY_PART][tryCount] = IN_TRIED;
-          tryCount++;
+          frames[depth].enterTry(at);
           break;
         case EV_TRIED:
-          endPart(at);
+          endPart(frames[depth], at);
           break;
         case EV_CAUGHT:
-          endPart(tree.root[at]);
+          endPart(frames[depth], tree.root[at]);
           break;
         case EV_TRY_END:
-          if (tryCount == 0) return;
-          tryCount--;
-          why = (int) tries[TRY_WHY][tryCount];
-          carried = tries[TRY_CARRIED][tryCount];
-          loop = (int) tries[TRY_LOOP][tryCount];
+          endFinally(frames[depth]);
           break;
         default:
       }
@@ -4526,29 +4539,36 @@ public final class Sourcedoor {
     }
 
     /** The end of a try's BLOCK or catch: its finally comes, or what stands behind it. */
-    private void endPart(int at) {
-      if (tryCount == 0) return;
-      if (tree.other[at] == NONE) {
-        tryCount--;
-        pc = tree.jump[at] + 1;
+    private void endPart(Frame frame, int at) {
+      if (frame.tries == 0) return;
+      if (tree.other[at] != NONE) {
+        beginFinally(frame, at);
       } else {
-        beginFinally(at);
+        frame.tries--;
+        pc = tree.jump[at] + 1;
       }
     }
 
-    private void beginFinally(int at) {
-      tries[TRY_PART][tryCount - 1] = IN_FINALLY;
-      tries[TRY_WHY][tryCount - 1] = why;
-      tries[TRY_CARRIED][tryCount - 1] = carried;
-      tries[TRY_LOOP][tryCount - 1] = loop;
+    private void beginFinally(Frame frame, int at) {
+      frame.enterFinally(why, carried, loop);
       why = 0;
       pc = tree.other[at];
+    }
+
+    /** What led to the finally is gone on with. */
+    private void endFinally(Frame frame) {
+      if (frame.tries == 0) return;
+      frame.tries--;
+      why = frame.tryWhy[frame.tries];
+      carried = frame.tryCarried[frame.tries];
+      loop = frame.tryLoop[frame.tries];
     }
 
     // ---- what throws, returns or jumps goes out of the tries and the calls
 
     private void leavePart(Frame frame) {
-      if (tryCount > frame.firstTry) leaveTry(frame, (int) tries[TRY_AT][tryCount - 1], (int) tries[TRY_PART][tryCount - 1]);
+      int last = frame.tries - 1;
+      if (last >= 0) leaveTry(frame, frame.tryAt[last], frame.tryPart[last]);
       else if (why == JUMPS) arrive();
       else if (why == RETURNS) leaveCall(frame);
       else leaveByThrow(frame);
@@ -4567,16 +4587,14 @@ public final class Sourcedoor {
       top = frame.floor;
       int c = why == THROWS_IT && part == IN_TRIED ? catchOf(at) : NONE;
       if (c != NONE) {
-        tries[TRY_PART][tryCount - 1] = IN_CATCH;
-        int local = localOf(tree.more[c]);
-        locals[local] = carried;
-        has[local] = true;
+        frame.tryPart[frame.tries - 1] = IN_CATCH;
+        frame.put(tree.more[c], carried);
         pc = tree.jump[c];
         why = 0;
       } else if (part != IN_FINALLY && tree.other[at] != NONE) {
-        beginFinally(at);
+        beginFinally(frame, at);
       } else {
-        tryCount--;
+        frame.tries--;
       }
     }
 
