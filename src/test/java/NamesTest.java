@@ -41,7 +41,8 @@ public final class NamesTest {
 
   private static void meant() {
     world("package p ; class a { int k ; static z n ; void f ( int x , a y ) { int w = x ; w = k ; y . k = n ; y . f ( 1 , null ) ; a . n = b . n ; "
-        + "try { } catch ( Slip v ) { tell v ; } new a ( ) ; new b ( 1 , y ) ; new Throw ( ) ; tell q ; f ( q , y ) ; tell super . f ( ) ; f ( ) ; } } "
+        + "try { } catch ( Slip v ) { tell v ; } new a ( ) ; new b ( 1 , y ) ; new Throw ( ) ; tell q ; f ( q , y ) "
+            + "; tell super . f ( ) ; f ( ) ; } } "
         + "class b extends a { b ( Object x , a y ) { super ( ) ; } }");
     meant("x", 1, "local " + at("x", 0));
     meant("w", 0, "-");
@@ -68,7 +69,8 @@ public final class NamesTest {
     meant("f", 4, "-");
     meant("super", 1, "-");
     meant("=", 0, "-");
-    world("class a { int k ; a b ; int f ( a x ) { return b . b . k + ( x ) . k + this . k ; } static int g ( ) { int w ; return w + k + a . k ; } }");
+    world("class a { int k ; a b ; int f ( a x ) { return b . b . k + ( x ) . k + this . k ; } static int g ( ) { "
+        + "int w ; return w + k + a . k ; } }");
     meant("b", 1, "field a.b");
     meant("b", 2, "field a.b");
     meant("k", 1, "field a.k");
@@ -89,8 +91,10 @@ public final class NamesTest {
   }
 
   private static void kinds() {
-    world("package p ; class a { byte b ; long l ; Integer i ; void f ( int x , Object y ) { tell - b ; tell b + l ; tell i + 1 ; tell x < 2 ; tell ( byte ) 1 ; tell y == null ; "
-        + "tell true ? 1 : null ; tell y instanceof a ; f ( 1 , this ) ; b = 1 ; l += 1 ; new a ( ) ; tell ! false ; tell ( ( x ) ) ; tell a . b ; a . z ( ) ; 5 ; tell x * y ; } }");
+    world("package p ; class a { byte b ; long l ; Integer i ; void f ( int x , Object y ) { tell - b ; tell b + l ; "
+        + "tell i + 1 ; tell x < 2 ; tell ( byte ) 1 ; tell y == null ; "
+        + "tell true ? 1 : null ; tell y instanceof a ; f ( 1 , this ) ; b = 1 ; l += 1 ; new a ( ) ; tell ! false ; "
+            + "tell ( ( x ) ) ; tell a . b ; a . z ( ) ; 5 ; tell x * y ; } }");
     kind("-", 0, "int");
     kind("b", 1, "byte");
     kind("+", 0, "long");
@@ -125,8 +129,11 @@ public final class NamesTest {
   }
 
   private static void values() {
-    world("class a { void f ( int x ) { tell 7 + 2 * 3 ; tell - 5 div 2 ; tell - 5 % 3 ; tell 5 % - 3 ; tell 1 < 2 ; tell 2 <= 1 ; tell 1 == 1 && true ; tell false || ! true ; "
-        + "tell ( byte ) 200 ; tell 9999 * 9999 * 9999 ; tell ( long ) 9999 * 9999 * 9999 ; tell true ? 1 : 2 ; tell x + 1 ; tell 1 div 0 ; tell 1 % 0 ; tell false && 1 div 0 == 1 ; tell ( Integer ) 1 ; tell null ; tell true != false ; tell ( boolean ) false ; } }");
+    world("class a { void f ( int x ) { tell 7 + 2 * 3 ; tell - 5 div 2 ; tell - 5 % 3 ; tell 5 % - 3 ; tell 1 < 2 ; "
+        + "tell 2 <= 1 ; tell 1 == 1 && true ; tell false || ! true ; "
+        + "tell ( byte ) 200 ; tell 9999 * 9999 * 9999 ; tell ( long ) 9999 * 9999 * 9999 ; tell true ? 1 : 2 ; tell "
+            + "x + 1 ; tell 1 div 0 ; tell 1 % 0 ; tell false && 1 div 0 == 1 ; tell ( Integer ) 1 ; tell null ; tell "
+            + "true != false ; tell ( boolean ) false ; } }");
     value("+", 0, "13");
     value("*", 0, "6");
     value("7", 0, "7");
@@ -155,8 +162,12 @@ public final class NamesTest {
   }
 
   private static void constants() {
-    world("class a { static final int k = 3 ; static int n = 3 ; final int m = 3 ; static final byte b = 300 ; static final long l = k ; static final Integer i = 3 ; static final int c = d ; static final int d = c + 1 ; static final int e = g * 2 ; static final int g = 5 ; "
-        + "int f ( a x , int y ) { final int w = k + 1 ; final int v = y ; int u = 1 ; tell w ; tell v ; tell u ; tell k ; tell n ; tell m ; tell b ; tell l ; tell i ; tell c ; tell e ; tell a . k ; tell x . k ; tell h . s ; tell super . k ; return w + k ; } } interface h { int s = 4 ; boolean t = s < 5 ; }");
+    world("class a { static final int k = 3 ; static int n = 3 ; final int m = 3 ; static final byte b = 300 ; "
+        + "static final long l = k ; static final Integer i = 3 ; static final int c = d ; static final int d = c + "
+        + "1 ; static final int e = g * 2 ; static final int g = 5 ; "
+        + "int f ( a x , int y ) { final int w = k + 1 ; final int v = y ; int u = 1 ; tell w ; tell v ; tell u ; "
+            + "tell k ; tell n ; tell m ; tell b ; tell l ; tell i ; tell c ; tell e ; tell a . k ; tell x . k ; tell h "
+            + ". s ; tell super . k ; return w + k ; } } interface h { int s = 4 ; boolean t = s < 5 ; }");
     value("w", 1, "4");
     value("v", 1, "-");
     value("u", 1, "-");
@@ -186,8 +197,10 @@ public final class NamesTest {
   }
 
   private static void phases() {
-    world("class a { void f ( byte x ) { } void f ( long x ) { } void f ( Object x ) { } void g ( Integer x ) { } void g ( Object x ) { } void g ( boolean x ) { } "
-        + "void h ( ) { f ( 1 ) ; f ( null ) ; f ( this ) ; f ( ( byte ) 1 ) ; g ( 1 ) ; g ( true ) ; g ( ) ; q ( ) ; g ( z ) ; new a ( ) ; new a ( 1 ) ; new Object ( ) ; new i ( ) ; } } interface i { }");
+    world("class a { void f ( byte x ) { } void f ( long x ) { } void f ( Object x ) { } void g ( Integer x ) { } "
+        + "void g ( Object x ) { } void g ( boolean x ) { } "
+        + "void h ( ) { f ( 1 ) ; f ( null ) ; f ( this ) ; f ( ( byte ) 1 ) ; g ( 1 ) ; g ( true ) ; g ( ) ; q ( ) "
+            + "; g ( z ) ; new a ( ) ; new a ( 1 ) ; new Object ( ) ; new i ( ) ; } } interface i { }");
     phase("f", 3, 1, 1);
     meant("f", 3, "method a.f(long)");
     phase("f", 4, 1, 1);
@@ -206,7 +219,9 @@ public final class NamesTest {
     phase("new", 2, 1, 1);
     phase("new", 3, 0, 0);
     phase("f", 0, 0, 0);
-    world("class a { a ( long x ) { } a ( Integer x ) { this ( 1 ) ; } a ( int x , Integer y ) { } a ( Integer x , int y ) { } a ( ) { this ( 1 , 1 ) ; } a ( boolean x ) { this ( true , x ) ; } } class b extends a { b ( ) { super ( 2 ) ; } "
+    world("class a { a ( long x ) { } a ( Integer x ) { this ( 1 ) ; } a ( int x , Integer y ) { } a ( Integer x , "
+        + "int y ) { } a ( ) { this ( 1 , 1 ) ; } a ( boolean x ) { this ( true , x ) ; } } class b extends a { b ( "
+        + ") { super ( 2 ) ; } "
         + "int f ( ) { return 1 ; } static int g ( ) { return f ( ) ; } static int h ( ) { return super . f ( ) + b . f ( ) ; } }");
     phase("this", 0, 1, 1);
     phase("this", 1, 2, 2);

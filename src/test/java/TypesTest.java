@@ -23,8 +23,10 @@ public final class TypesTest {
   }
 
   private static void main() {
-    String text = "class a { int M ( int x , int y ) { return 1 ; } static int M ( int x ) { return 1 ; } static int M ( int x , long y ) { return 1 ; } } "
-        + "class b { static void M ( int y , int x ) { } static int M ( int x , int y ) { return z ; } } class c { static int M ( int x , int y ) { return 1 ; } }";
+    String text = "class a { int M ( int x , int y ) { return 1 ; } static int M ( int x ) { return 1 ; } static int M ( int "
+        + "x , long y ) { return 1 ; } } "
+        + "class b { static void M ( int y , int x ) { } static int M ( int x , int y ) { return z ; } } class c { "
+            + "static int M ( int x , int y ) { return 1 ; } }";
     Sourcedoor door = Door.world(text);
     Door.due("main", door.main(0), Door.place(text, "M", 3));
     Door.due("main without", door.main(1), -1);
@@ -42,7 +44,8 @@ public final class TypesTest {
   }
 
   private static void ofType() {
-    Sourcedoor door = Door.world("interface i { int k = 1 ; int f ( ) ; void g ( ) ; } abstract class a implements i { int n ; static int n ; a ( ) { } a ( int x ) { } a ( int y ) { } "
+    Sourcedoor door = Door.world("interface i { int k = 1 ; int f ( ) ; void g ( ) ; } abstract class a implements i { int n ; static int n "
+        + "; a ( ) { } a ( int x ) { } a ( int y ) { } "
         + "int f ( ) { return 1 ; } int f ( ) { return 2 ; } abstract void h ( ) ; } class b { }");
     int[][] due = {{1, 1, 0, 2, 2, 0, 1, 2}, {21, 0, 1, 3, 2, 2, 1, 2}, {92, 0, 0, 0, 0, 0, 0, 0}};
     due[2][0] = Door.place(door.text(0), "b", 0);
@@ -58,7 +61,9 @@ public final class TypesTest {
   }
 
   private static void above() {
-    Sourcedoor door = Door.world("package p ; class a extends b implements i , j , i { } class b extends z { } interface i extends j { } interface j { } class c extends Slip { } class d implements i { } class e extends i implements b , Object { }");
+    Sourcedoor door = Door.world("package p ; class a extends b implements i , j , i { } class b extends z { } interface i extends j { } "
+        + "interface j { } class c extends Slip { } class d implements i { } class e extends i implements b , Object "
+        + "{ }");
     String[] due = {"p.b p.i p.j", "Object", "p.j", "", "Slip", "Object p.i", "Object"};
     for (int k = 0; k < due.length; k++) Door.due("above " + k, door.above(0, k), due[k]);
     Door.throwing("above type", IndexOutOfBoundsException.class, () -> door.above(0, 7));
@@ -83,7 +88,9 @@ public final class TypesTest {
   }
 
   private static void methods() {
-    Sourcedoor door = Door.world("package p ; interface i { void f ( ) ; int g ( a x , Object y ) ; } class a implements i { static long h ( byte x , boolean y , z w ) { return 1 ; } void f ( ) { } void f ( long x ) { } void f ( long y ) { } } class b extends a { int g ( a x , Object y ) { return 1 ; } }");
+    Sourcedoor door = Door.world("package p ; interface i { void f ( ) ; int g ( a x , Object y ) ; } class a implements i { static long h "
+        + "( byte x , boolean y , z w ) { return 1 ; } void f ( ) { } void f ( long x ) { } void f ( long y ) { } } "
+        + "class b extends a { int g ( a x , Object y ) { return 1 ; } }");
     Door.due("methods of an interface", door.methods(0, 0), "abstract f() abstract g(p.a,Object)");
     Door.due("methods of a class", door.methods(0, 1), "static h(byte,boolean,?) f() f(long) abstract g(p.a,Object)");
     Door.due("methods below", door.methods(0, 2), "g(p.a,Object) static h(byte,boolean,?) f() f(long)");
@@ -92,7 +99,9 @@ public final class TypesTest {
   }
 
   private static void fields() {
-    Sourcedoor door = Door.world("package p ; interface i { Integer k = 1 ; } interface j { int k = 1 ; long n = 1 ; } class a implements i { z m ; static byte n ; } class b extends a implements j { } class c extends b implements i { c m ; long m ; boolean k ; }");
+    Sourcedoor door = Door.world("package p ; interface i { Integer k = 1 ; } interface j { int k = 1 ; long n = 1 ; } class a implements i "
+        + "{ z m ; static byte n ; } class b extends a implements j { } class c extends b implements i { c m ; long "
+        + "m ; boolean k ; }");
     int k = 10;
     int n = 13;
     int m = 12;
@@ -117,7 +126,8 @@ public final class TypesTest {
   }
 
   private static void constructors() {
-    Sourcedoor door = Door.world("package p ; class a { a ( ) { } a ( a x , Throw y ) { } a ( z x ) { } a ( w x ) { } b ( long x ) { } } class b { } interface c { }");
+    Sourcedoor door = Door.world("package p ; class a { a ( ) { } a ( a x , Throw y ) { } a ( z x ) { } a ( w x ) { } b ( long x ) { } } "
+        + "class b { } interface c { }");
     Door.due("constructors", door.constructors(0, 0), "() (p.a,Throw) (?) (long)");
     Door.due("constructors without", door.constructors(0, 1), "");
     Door.due("constructors of an interface", door.constructors(0, 2), "");
@@ -126,7 +136,9 @@ public final class TypesTest {
   }
 
   private static void overridden() {
-    String text = "interface i { void f ( ) ; void g ( ) ; } interface j extends i { void f ( ) ; } class a implements i { void f ( ) { } void g ( ) { } } class b extends a implements i , j { void f ( ) { } void f ( ) { } void h ( ) { f ( ) ; } int k ; }";
+    String text = "interface i { void f ( ) ; void g ( ) ; } interface j extends i { void f ( ) ; } class a implements i { "
+        + "void f ( ) { } void g ( ) { } } class b extends a implements i , j { void f ( ) { } void f ( ) { } void h "
+        + "( ) { f ( ) ; } int k ; }";
     Sourcedoor door = Door.world(text);
     Door.due("none above", door.overridden(0, Door.place(text, "f", 0)), 0);
     Door.due("one", door.overridden(0, Door.place(text, "f", 1)), 1);

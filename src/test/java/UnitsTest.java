@@ -1,11 +1,21 @@
 /** The units' texts (promises 1 to 11). */
 public final class UnitsTest {
   private static final String[] SAMPLES = {
-    "class a { static int f ( int x ) { return x + 1 ; } static int f ( long x ) { return 2 ; } static int f ( Object x ) { return 3 ; } static int M ( int x , int y ) { byte b = 5 ; Integer i = x ; tell f ( b ) ; tell f ( i ) ; tell f ( x + ( long ) y ) ; return f ( null ) ; } }",
-    "interface s { int k = 2 ; int v ( int n ) ; } abstract class t implements s { int d ; t ( int d ) { this . d = d ; } int w ( ) { return v ( d ) * k ; } } class u extends t { u ( ) { super ( 3 ) ; } int v ( int n ) { return n + d ; } }",
-    "class c { static int M ( int x , int y ) { t z = new u ( ) ; z . d = x ; tell z . w ( ) ; s q = z ; tell q . v ( y ) ; return ( ( u ) q ) . d ; } }",
-    "class e extends Throw { int n ; e ( int n ) { this . n = n ; } } class g { static int h ( int x ) throws e { if ( x < 0 ) throw new e ( x ) ; return 10 div x ; } static int M ( int x , int y ) { int r ; try { r = h ( x ) ; tell r ; } catch ( e p ) { r = p . n ; } catch ( Divide p ) { r = 0 ; } finally { tell y ; } return r ; } }",
-    "class l { static final int n = 2 * 3 ; static int M ( int x , int y ) { int s ; if ( x < y && y < n ) s = x ; else { s = 0 ; while ( true ) { s += y ; if ( n < s ) break ; } } byte b = n ; b += s ; tell b ; return s ; } }"
+    "class a { static int f ( int x ) { return x + 1 ; } static int f ( long x ) { return 2 ; } static int f ( "
+        + "Object x ) { return 3 ; } static int M ( int x , int y ) { byte b = 5 ; Integer i = x ; tell f ( b ) ; "
+        + "tell f ( i ) ; tell f ( x + ( long ) y ) ; return f ( null ) ; } }",
+    "interface s { int k = 2 ; int v ( int n ) ; } abstract class t implements s { int d ; t ( int d ) { this "
+        + ". d = d ; } int w ( ) { return v ( d ) * k ; } } class u extends t { u ( ) { super ( 3 ) ; } int v ( int "
+        + "n ) { return n + d ; } }",
+    "class c { static int M ( int x , int y ) { t z = new u ( ) ; z . d = x ; tell z . w ( ) ; s q = z ; tell "
+        + "q . v ( y ) ; return ( ( u ) q ) . d ; } }",
+    "class e extends Throw { int n ; e ( int n ) { this . n = n ; } } class g { static int h ( int x ) throws "
+        + "e { if ( x < 0 ) throw new e ( x ) ; return 10 div x ; } static int M ( int x , int y ) { int r ; try { r "
+        + "= h ( x ) ; tell r ; } catch ( e p ) { r = p . n ; } catch ( Divide p ) { r = 0 ; } finally { tell y ; } "
+        + "return r ; } }",
+    "class l { static final int n = 2 * 3 ; static int M ( int x , int y ) { int s ; if ( x < y && y < n ) s = "
+        + "x ; else { s = 0 ; while ( true ) { s += y ; if ( n < s ) break ; } } byte b = n ; b += s ; tell b ; "
+        + "return s ; } }"
   };
 
   public static void main(String[] args) {
