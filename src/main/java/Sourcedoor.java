@@ -4027,8 +4027,9 @@ public final class Sourcedoor {
       this.watching = watching;
       begin(m, x, y);
       for (int turn = 0; turn < MOST_TURNS && state == RUNNING; turn++) {
-        int what = tree.what[pc];
-        int at = tree.place[pc];
+        boolean isThere = pc >= 0 && pc < tree.length;
+        int what = isThere ? tree.what[pc] : EV_STOP;
+        int at = isThere ? tree.place[pc] : 0;
         pc++;
         if (what == EV_NODE) {
           if (tree.sort[at] >= E_CALL && tree.sort[at] <= E_START) call(at);
@@ -4498,7 +4499,7 @@ public final class Sourcedoor {
           else throwIt(ref);
           break;
         case EV_TELL:
-          told(tree.root[at]);
+          tellIt(tree.root[at]);
           break;
         case EV_TRY:
           frames[depth].enterTry(at);
@@ -4528,7 +4529,7 @@ public final class Sourcedoor {
       carried = root == NONE ? 0 : pop();
     }
 
-    private void told(int root) {
+    private void tellIt(int root) {
       if (out.count[O_TOLD] >= MOST_TOLD) {
         stop("FULL");
         return;
