@@ -45,7 +45,7 @@ public final class Sourcedoor {
 
   // ---- flags of types and of what has a name
   private static final int IS_STATIC = 1, IS_FINAL = 2, IS_ABSTRACT = 4, IS_TWICE = 8, HAS_VALUE = 16;
-  private static final int BEGINS_ITSELF = 32, IS_CLEAN = 64, IS_INTERFACE = 128, IS_CYCLE = 256, HAS_START = 512;
+  private static final int HAS_START = 32, IS_CLEAN = 64, IS_INTERFACE = 128, IS_CYCLE = 256;
 
   // ---- what has a name; D_UNSAID is the constructor that a class without any has
   private static final int D_FIELD = 1, D_METHOD = 2, D_START = 3, D_UNSAID = 4, D_PARAM = 5, D_LOCAL = 6;
