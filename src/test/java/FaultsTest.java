@@ -80,6 +80,8 @@ public final class FaultsTest {
     Door.faults("class a { int f ( ) { if ( true ) a @1 x ; } }");
     Door.faults("class a { int f ( ) { if ( true ) @1 final } }");
     Door.faults("class a { int f ( ) { try { } @1 } }");
+    Door.faults("class a { int f ( ) { try { } catch ( @1 int x ) { } } }");
+    Door.faults("class a { int f ( ) throws @1 int { } }");
     Door.faults("class a { int f ( ) { try { } finally { } @1 catch ( Throw x ) { } } }");
     Door.faults("class a { int f ( ) { @1 else ; } }");
     Door.faults("class a { int f ( ) { do ; @1 tell 1 ; } }");
@@ -221,6 +223,7 @@ public final class FaultsTest {
         + "return x == y && x @5 == w ; } boolean g ( b x , i y , Integer z , Object w ) { return z == 1 == ( z == z "
             + ") && w == z && y == w && z @5 == y ; } "
         + "boolean h ( Integer z , long u , boolean v ) { return z == u == v && z < u && z @5 == v ; } }");
+    Door.body("Integer z = 1 ; tell x == z ; tell z != x ; tell x < z ; tell z + z ; tell ( byte ) 1 == z ; tell z @5 == true ; tell z == z ;");
     Door.body("tell y instanceof a ; tell null instanceof a ; tell x @5 instanceof a ; tell this @5 instanceof Throw ; "
         + "tell this instanceof Object ;");
     Door.body("tell ( long ) x ; tell ( byte ) 1 ; tell @5 ( boolean ) 1 ; tell ( boolean ) true ; tell @5 ( int ) true "
@@ -235,6 +238,8 @@ public final class FaultsTest {
         + "a t = true ? null : this ; Object s = true ? 1 : y ;");
     Door.body("tell true @5 ? 1 : true ; tell 1 @5 ? 1 : 2 ; tell true @5 ? this : new Throw ( ) ; tell true ? null : "
         + "null ; tell true @5 ? ( byte ) 1 : null ; tell true @5 ? f ( 1 , y ) : 1 ;");
+    Door.body("Object z = true ? y : 1 ; z = true ? y : this ; a w = true ? this : null ; tell true @5 ? y : ( long ) 1 ;");
+    Door.body("byte z = 1 ; byte @5 w = x < 1 ? x : z ; int @5 v = x < 1 ? 1 : ( long ) x ; long u = x < 1 ? ( long ) x : 1 ;");
     Door.body("byte z = 1 ; byte w = x < 1 ? z : 1 ; byte @5 v = x < 1 ? z : x ; byte @5 u = x < 1 ? 1 : 2 ; byte @5 t = "
         + "x < 1 ? z : 128 ; byte s = x < 1 ? 127 : z ;");
   }

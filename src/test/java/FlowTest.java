@@ -229,6 +229,9 @@ public final class FlowTest {
     Door.due("faulty body", door.isSet(0, Door.place(text, "tell", 3), z), -1);
     String lost = "class a { void f ( ) { int z ; return ; ; } }";
     Door.due("behind a return all are set", Door.world(lost).isSet(0, Door.place(lost, ";", 2), z), 1);
+    String ends = "class a { void f ( int a , int N ) { ; } }";
+    Door.due("the first name", Door.world(ends).isSet(0, Door.place(ends, ";", 0), 0), 1);
+    Door.due("the last name", Door.world(ends).isSet(0, Door.place(ends, ";", 0), 39), 1);
     Door.throwing("isSet place", IndexOutOfBoundsException.class, () -> new Sourcedoor().isSet(0, 0, -1));
     Door.throwing("isSet name", IllegalArgumentException.class, () -> Door.world(lost).isSet(0, 0, 40));
     Door.throwing("isSet name below", IllegalArgumentException.class, () -> Door.world(lost).isSet(0, 0, -1));

@@ -187,6 +187,10 @@ public final class NamesTest {
     value("k", 6, "-");
     value("+", 2, "7");
     Door.due("a constant over a constant", door.value(0, at("<", 0)), "true");
+    world("class a extends b { int f ( ) { return super . k + k ; } } class b { static final int k = 3 ; }");
+    value("k", 0, "-");
+    kind("k", 0, "int");
+    value("k", 1, "3");
     // They may hang on one another in any sequence, and over units.
     world("class a { static final int k = b . k + 1 ; }", "class b { static final int n = 4 ; static final int k = c . k * n ; }", "class c { static final byte k = 10 ; }");
     value("+", 0, "41");
