@@ -171,6 +171,8 @@ public final class FaultsTest {
     Door.body("tell @3 z ; tell y . @3 k ; tell this . @3 z ; tell @3 z . k ; tell a . @3 z ; tell ( @3 a ) . n ; tell @3 a ;");
     Door.body("@3 g ( ) ; this . @3 g ( ) ; a . @3 g ( ) ; y . @3 g ( ) ;");
     Door.faults("class a { int f ( ) { return super . @3 k + super . @3 f ( ) ; } }");
+    Door.faults("class a extends b { int f ( ) { return super . k . n + super . g ( ) . n + ( this ) . k . @3 m ; } } "
+        + "class b { b k ; int n ; b g ( ) { return k ; } }");
     // The type of the unit comes first, then the import, then another unit of the package.
     Door.faults("package p ; class a { } class c extends a { int f ( ) { return this . @3 k ; } }", "package q ; class a { int k ; }");
     Door.faults("package p ; import q . a ; class c extends a { int f ( ) { return k ; } }", "package q ; class a { int k ; }",
@@ -277,6 +279,9 @@ public final class FaultsTest {
     Door.faults("interface i { int f ( ) ; } class a { long f ( ) { return 1 ; } } class @7 b extends a implements i { } class c extends b { }");
     Door.faults("interface i { int f ( ) ; } interface j { long f ( ) ; } interface @7 k extends i , j { } interface l extends i { int f ( ) ; }");
     Door.faults("interface i { void f ( ) ; } interface j extends i { } interface k extends i { } abstract class c implements j , k { }");
+    Door.faults("class a { a f ( ) { return null ; } int g ( ) { return 1 ; } Integer h ( ) { return 1 ; } } "
+        + "class b extends a { Object @7 f ( ) { return null ; } Integer @7 g ( ) { return 1 ; } Throw @7 h ( ) { return null ; } } "
+        + "class c extends a { c f ( ) { return this ; } }");
     // A kind that means nothing is no reason.
     Door.faults("class a { int f ( ) { return 1 ; } @3 z g ( ) { return 1 ; } void h ( @3 z x ) { } } class b extends a { "
         + "@3 z f ( ) { return 1 ; } int g ( ) { return 1 ; } static void @7 h ( @3 z x ) { } }");
