@@ -47,8 +47,21 @@ final class Door {
     return words;
   }
 
+  /** Types a text, five tokens a call, as an object is good for just so many calls. */
   static void type(Sourcedoor door, int unit, String text) {
-    for (String word : plain(text)) door.type(unit, token(word), -1, -1, -1, -1);
+    List<String> words = plain(text);
+    for (int k = 0; k < words.size(); k += 5) {
+      int[] five = new int[5];
+      for (int n = 0; n < 5; n++) five[n] = k + n < words.size() ? token(words.get(k + n)) : -1;
+      door.type(unit, five[0], five[1], five[2], five[3], five[4]);
+    }
+  }
+
+  /** A text so many times, one behind the other. */
+  static String times(int many, String text) {
+    StringBuilder all = new StringBuilder();
+    for (int k = 0; k < many; k++) all.append(text).append(' ');
+    return all.toString();
   }
 
   static Sourcedoor world(String... units) {
