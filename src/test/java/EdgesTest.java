@@ -16,6 +16,7 @@ public final class EdgesTest {
     tells();
     stopped();
     fullTexts();
+    manyTypes();
     deepTexts();
     Door.end();
   }
@@ -435,6 +436,46 @@ public final class EdgesTest {
     Door.due("all abstract", door.ofType(3, 39, 4), 73);
     Door.due("faults", door.ofUnit(2, 2) + door.ofUnit(3, 2), 79);
     Door.due("subtypes", door.subtypes(0, 0).split(" ").length, 81);
+  }
+
+  // ---- as many TYPES as a WORLD may have: each of those that others stand below is found, wherever it is among them
+
+  private static void manyTypes() {
+    String[] texts = new String[4];
+    for (int unit = 0; unit < 4; unit++) {
+      // In the package of a unit of its own: 40 classes, each below the one ahead but every fourth one.
+      StringBuilder text = new StringBuilder("package " + (char) ('a' + unit) + " ; ");
+      for (int k = 0; k < 39; k++) {
+        text.append("class ").append((char) (k < 26 ? 'a' + k : 'A' + k - 26));
+        if (k % 4 != 0) text.append(" extends ").append((char) (k - 1 < 26 ? 'a' + k - 1 : 'A' + k - 27));
+        text.append(" { } ");
+      }
+      texts[unit] = text.append("class a { } ").toString();
+    }
+    Sourcedoor door = Door.world(texts);
+    Door.due("types of all", door.house(1), 160);
+    Door.due("faults of all", door.house(2), 4);
+    for (int unit = 0; unit < 4; unit++) {
+      for (int k = 0; k < 39; k++) {
+        String due = "";
+        for (int m = 0; m < 39; m++) {
+          boolean isBelow = m / 4 == k / 4 && k <= m;
+          Door.due("below " + unit + " " + k + " " + m, door.isSubtype(unit, m, unit, k), isBelow);
+          if (isBelow && m != k) due += (due.isEmpty() ? "" : " ") + (char) ('a' + unit) + "." + (char) (m < 26 ? 'a' + m : 'A' + m - 26);
+        }
+        Door.due("subtypes " + unit + " " + k, door.subtypes(unit, k), due);
+      }
+      Door.due("no subtype of another unit's", door.isSubtype(unit, 1, (unit + 1) % 4, 0), false);
+    }
+    String last = Door.times(29, "class z { }") + "class a { } class b extends a { } class c extends b { } class d extends c { }"
+        + Door.times(6, "class y { }") + "class e extends d { } class f extends e { } class g extends f { } class h extends g { }";
+    door = Door.world(Door.times(60, "class z { }"), Door.times(60, "class z { }"), Door.times(60, "class z { }"), last);
+    Door.due("the last one's subtypes", door.subtypes(3, 29), "b c d e f g h");
+    Door.due("of all types", door.house(1), 180 + 43);
+    Door.due("the last of all", door.isSubtype(3, 42, 3, 29), true);
+    Door.due("not the other way round", door.isSubtype(3, 29, 3, 42), false);
+    Door.due("nor beside it", door.isSubtype(3, 42, 3, 35), false);
+    Door.due("above it", door.above(3, 42), "g");
   }
 
   // ---- texts in which as much stands within one another as a UNIT may hold

@@ -3,7 +3,7 @@ import java.util.List;
 
 /** All answers of the class against a second reading of the document (see Reading), of known worlds changed at random. */
 public final class ReadingTest {
-  private static final String[][] WORLDS = {
+  static final String[][] WORLDS = {
     {"class a { static int f ( int x ) { return x + 1 ; } static int f ( long x ) { return 2 ; } static int f ( Object x ) { return 3 ; } static "
         + "int M ( int x , int y ) { byte b = 5 ; Integer i = x ; tell f ( b ) ; tell f ( i ) ; tell f ( x + ( long ) y ) ; return f ( null ) ; } }"},
     {"interface s { int k = 2 ; int v ( int n ) ; } abstract class t implements s { int d ; t ( int d ) { this . d = d ; } int w ( ) { return v ( d ) "
