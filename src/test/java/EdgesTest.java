@@ -467,7 +467,7 @@ public final class EdgesTest {
       }
       Door.due("no subtype of another unit's", door.isSubtype(unit, 1, (unit + 1) % 4, 0), false);
     }
-    String last = Door.times(29, "class z { }") + "class a { } class b extends a { } class c extends b { } class d extends c { }"
+    String last = Door.times(29, "class z { }") + "class a { } class b extends a { } class c extends b { } class d extends c { } "
         + Door.times(6, "class y { }") + "class e extends d { } class f extends e { } class g extends f { } class h extends g { }";
     door = Door.world(Door.times(60, "class z { }"), Door.times(60, "class z { }"), Door.times(60, "class z { }"), last);
     Door.due("the last one's subtypes", door.subtypes(3, 29), "b c d e f g h");
