@@ -476,6 +476,11 @@ public final class EdgesTest {
     Door.due("not the other way round", door.isSubtype(3, 29, 3, 42), false);
     Door.due("nor beside it", door.isSubtype(3, 42, 3, 35), false);
     Door.due("above it", door.above(3, 42), "g");
+    // A ring of the last ones: e extends h now.
+    door.change(3, Door.place(door.text(3), "e", 0) + 2, 107);
+    Door.due("a ring", door.isSubtype(3, 40, 3, 41), false);
+    Door.due("all that are in it", door.house(2), 179 + 29 + 5 + 4);
+    Door.due("what stands above then", door.above(3, 39) + door.subtypes(3, 39), "Object");
   }
 
   // ---- texts in which as much stands within one another as a UNIT may hold

@@ -8,6 +8,7 @@ public final class NamesTest {
     kinds();
     values();
     constants();
+    binding();
     phases();
     wrong();
     Door.end();
@@ -198,6 +199,48 @@ public final class NamesTest {
     value("+", 0, "-");
     value("y", 1, "127");
     value("z", 1, "-");
+  }
+
+  /** From the loosest sign on, and of like ones the left one first: told by what each of two signs is then. */
+  private static void binding() {
+    String[][] all = {
+      {"true || true && false", "||", "true", "&&", "false"}, {"false && true || true", "&&", "false", "||", "true"},
+      {"false && false == false", "&&", "false", "==", "true"}, {"false == false && false", "==", "true", "&&", "false"},
+      {"true == 1 < 2", "==", "true", "<", "true"}, {"true != 2 <= 1", "!=", "true", "<=", "false"}, {"1 < 2 == false", "<", "true", "==", "false"},
+      {"1 < 2 + 3", "<", "true", "+", "5"}, {"5 - 3 <= 1", "-", "2", "<=", "false"}, {"2 + 3 * 4", "+", "14", "*", "12"}, {"2 * 3 + 4", "*", "6", "+", "10"},
+      {"9 - 8 div 3", "-", "7", "div", "2"}, {"9 % 5 - 1", "%", "4", "-", "3"}, {"9 - 5 + 1", "-", "4", "+", "5"}, {"9 + 5 - 1", "+", "14", "-", "13"},
+      {"20 div 5 * 2", "div", "4", "*", "8"}, {"7 * 3 % 4", "*", "21", "%", "1"}, {"7 % 4 * 2", "%", "3", "*", "6"}, {"50 div 7 % 4", "div", "7", "%", "3"},
+      {"true == false != false", "==", "false", "!=", "false"}, {"true != false == false", "!=", "true", "==", "false"},
+      {"- 2 * 3", "-", "-2", "*", "-6"}, {"- 7 % 4", "-", "-7", "%", "-3"}, {"! true == false", "!", "false", "==", "true"}, {"! true || true", "!", "false", "||", "true"},
+      {"( int ) 5 + 1", "(", "5", "+", "6"}, {"( byte ) 200 * 2", "(", "-56", "*", "-112"},
+      {"true ? false : true || true", "?", "false", "||", "true"}, {"false || true ? 1 : 2", "||", "true", "?", "1"}, {"false ? 1 : 2 + 3", "?", "5", "+", "5"},
+    };
+    for (String[] each : all) {
+      world("interface a { long k = 0 ; boolean n = true ; } class b { void f ( ) { tell " + each[0] + " ; } }");
+      int from = at("tell", 0);
+      for (int k = 1; k < each.length; k += 2) {
+        int place = from;
+        while (!Door.plain(text).get(place).equals(each[k])) place++;
+        Door.due(each[k] + " of " + each[0], door.value(0, place), each[k + 1]);
+      }
+    }
+    // Signs alike, told by which of them has a TYPE.
+    String[][] types = {
+      {"1 < 2 < 3", "boolean -"}, {"1 && true && true", "- -"}, {"true && true && 1", "boolean -"}, {"1 || true || true", "- -"}, {"true || true || 1", "boolean -"},
+      {"x < y instanceof b", "- -"}, {"y instanceof b == z", "boolean boolean"}, {"z == y instanceof b", "boolean boolean"}, {"y instanceof b && z", "boolean boolean"},
+      {"x + 1 < 2 * x", "int boolean int"}, {"z = z == z", "boolean boolean"}, {"x = x += 1", "int int"}, {"x += x = 1", "int int"}, {"z ? x = 1 : x", "int int"},
+      {"z ? x : z ? x : y", "Object Object"}, {"z ? z ? x : 1 : 2", "int int"}, {"z || z ? z && z : ! z", "boolean boolean boolean boolean"},
+    };
+    for (String[] each : types) {
+      world("class b { void f ( int x , Object y , boolean z ) { tell " + each[0] + " ; } }");
+      StringBuilder kinds = new StringBuilder();
+      int to = Door.plain(text).size() - 3;
+      for (int place = at("tell", 0) + 1; place < to; place++) {
+        boolean isSign = "< <= == != && || instanceof + - * = += ? !".contains(Door.plain(text).get(place));
+        if (isSign) kinds.append(kinds.length() > 0 ? " " : "").append(door.kind(0, place));
+      }
+      Door.due("kinds of " + each[0], kinds.toString(), each[1]);
+    }
   }
 
   private static void phases() {

@@ -157,6 +157,14 @@ public final class RunsTest {
       {"tell f ( 1 ) < f ( 2 ) && f ( 3 ) < 1 && f ( 4 ) < 1 ; tell f ( 1 ) < 1 || f ( 2 ) == 2 || f ( 3 ) == 3 ; "
           + "return x < 1 ? f ( 5 ) : f ( 6 ) ;", "1 2 3 false 1 2 true 6", "6"},
     };
+    String[][] second = {
+      {"a w = new a ( ) ; a v = new a ( ) ; v . k = 3 ; v . k += w . k += 2 ; tell w . k ; return v . k ;", "2", "5"},
+      {"a w = new a ( ) ; w . z = new a ( ) ; w . z . z = w ; w . z . k += x ; w . z . z . k += 1 ; tell w . k ; return w . z . k ;", "1", "3"},
+      {"a w = new a ( ) ; a v = new a ( ) ; w . n = 4 ; v . n += 2 ; v . z = w ; ( v . z ) . k = 9 ; tell v . k ; tell v . n ; return w . k ;", "0 6", "9"},
+      {"a w = new a ( ) ; a v = w ; w . z = v ; v . k = ( v = null ) == null ? 7 : 8 ; tell v ; return w . k ;", "null", "7"},
+      {"a w = new a ( ) ; a v = w ; v . k += ( v = new a ( ) ) . k + 7 ; tell v . k ; return w . k ;", "0", "7"},
+    };
+    for (String[] each : second) run(types + "static int M ( int x , int y ) { " + each[0] + " } }", 3, 2, each[1], each[2]);
     for (String[] each : due) run(types + "static int M ( int x , int y ) { " + each[0] + " } }", 3, 2, each[1], each[2]);
   }
 
