@@ -11,6 +11,7 @@ public final class TypesTest {
     fields();
     constructors();
     overridden();
+    anySequence();
     Door.end();
   }
 
@@ -150,5 +151,49 @@ public final class TypesTest {
     Door.due("a field", door.overridden(0, Door.place(text, "k", 0)), -1);
     Door.throwing("overridden place", IndexOutOfBoundsException.class, () -> door.overridden(0, 240));
     Door.throwing("overridden unit", IndexOutOfBoundsException.class, () -> door.overridden(4, 0));
+  }
+
+  /** In which sequence TYPES stand, and in which UNITS, tells nothing but how they are told. */
+  private static void anySequence() {
+    String[] types = {
+      "interface i { int k = 1 ; void f ( ) throws d , e ; int g ( ) ; }", "interface j extends i { Object h ( c x ) ; }",
+      "abstract class b implements j { int g ( ) { return k ; } }", "class c extends b implements i { void f ( ) throws e { } c h ( c x ) { return x ; } }",
+      "class e extends Throw { }", "class d extends Throw { }",
+    };
+    String[] due = {
+      "i//abstract f() abstract g()", "j/i/abstract h(c) abstract f() abstract g()", "b/Object j/g() abstract h(c) abstract f()",
+      "c/b i/f() h(c) g()", "e/Throw/", "d/Throw/",
+    };
+    for (int way = 0; way < 720; way += 7) {
+      int[] places = new int[6];
+      boolean[] taken = new boolean[6];
+      int left = way;
+      for (int k = 0; k < 6; k++) {
+        int place = left % (6 - k);
+        left /= 6 - k;
+        int at = 0;
+        while (taken[at] || place-- > 0) at++;
+        taken[at] = true;
+        places[k] = at;
+      }
+      String[] units = {"", "", "", ""};
+      String[] found = new String[6];
+      for (int k = 0; k < 6; k++) units[k * (way % 4 + 1) / 6] += types[places[k]] + " ";
+      Sourcedoor door = Door.world(units);
+      int next = 0;
+      for (int unit = 0; unit < 4; unit++) {
+        Door.due("faults of way " + way, door.faults(unit), "");
+        for (int k = 0; k < door.ofUnit(unit, 1); k++) {
+          found[places[next++]] = door.types(unit).split(" ")[k] + "/" + door.above(unit, k) + "/" + door.methods(unit, k);
+        }
+      }
+      for (int k = 0; k < 6; k++) Door.due("way " + way, found[k], due[k]);
+    }
+    // One that a METHOD throws may be covered by any of those that the other one throws.
+    String thrown = "class e extends Throw { } class d extends e { } class n extends Throw { } ";
+    Door.faults(thrown + "class a { void f ( ) throws n , e { } void g ( ) throws Slip , n { } } class b extends a { void f ( ) throws d , n { } void @7 g ( ) "
+        + "throws Null , n , d { } }");
+    Door.faults(thrown + "class a { void f ( ) throws e { } void g ( ) throws n , e { f ( ) ; } void h ( ) throws Slip , n { @14 f ( ) ; } void i ( ) throws n , Slip , "
+        + "Throw { f ( ) ; } }");
   }
 }
