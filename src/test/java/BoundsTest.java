@@ -551,6 +551,9 @@ public final class BoundsTest {
     door.cut(2, 240);
     Door.due("well again", door.run(0, 1, 1), 1);
     Door.due("refused in all", door.house(4), 9);
+    // A fault at the very first place is one, too.
+    Sourcedoor first = Door.world(";", "class a { static int M ( int x , int y ) { return x ; } }");
+    Door.due("refused for the first token", first.run(1, 1, 1), -9);
     // An exception goes ahead of -9.
     door.type(2, 0, -1, -1, -1, -1);
     Door.throwing("no unit of a world that is not well", INDEX, () -> door.run(4, 1, 1));

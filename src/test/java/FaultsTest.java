@@ -32,6 +32,7 @@ public final class FaultsTest {
     Door.due("fault of none", door.fault(3, 0, 0), -1);
     Door.due("faultAt", door.faultAt(0, 3), 3);
     Door.due("faultAt without", door.faultAt(0, 4), 0);
+    Door.due("faultAt the first place", Door.world(";").faultAt(0, 0), 1);
     Door.due("faultAt below", door.faultAt(0, -1), 0);
     Door.due("faultAt far", door.faultAt(0, Integer.MAX_VALUE), 0);
     Door.due("faultAt row", door.faultAt(0, 256), 0);
@@ -180,6 +181,8 @@ public final class FaultsTest {
     Door.faults("package p ; import r . @3 a ; class c extends a { int f ( ) { return k ; } }", "package q ; class a { int n ; }",
         "package p ; class a { int k ; }");
     Door.faults("class c extends a { int f ( ) { return k ; } }", "class a { int k ; }");
+    Door.faults("import p . @2 d ; class d { int k ; } class b { int f ( d x ) { return x . k + x . @3 n ; } }", "package p ; class d { int n ; }");
+    Door.faults("import p . d ; class b { int f ( d x ) { return x . @3 k + x . n ; } }", "package p ; class d { int n ; }", "class d { int k ; }");
     Door.faults("class c extends @3 a { }", "package p ; class a { int k ; }");
     // Of several types of one name always the first one, also in the unit of a later one.
     Door.faults("class a { int k ; }", "class @2 a { int n ; int f ( a x ) { return x . k + x . @3 n + n ; } }");

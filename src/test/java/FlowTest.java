@@ -5,6 +5,7 @@ public final class FlowTest {
     returns();
     unset();
     whenTrueAndFalse();
+    bothWays();
     loops();
     tries();
     uncaught();
@@ -60,6 +61,9 @@ public final class FlowTest {
     Door.faults("class a { int f ( ) { @13 } int g ( ) { while ( true ) ; } int h ( ) { throw null ; } void i ( ) { } "
         + "int j ( int x ) { if ( x < 1 ) return 1 ; @13 } int k ( int x ) { if ( x < 1 ) return 1 ; else return 2 ; } a ( ) { } "
         + "@3 z l ( ) { @13 } static int m ( ) { ; { } @13 } int n ( ) { while ( true ) { break ; } @13 } }");
+    Door.faults("class a { int f ( int x ) { do ; while ( x < 1 ) ; @13 } int g ( int x ) { do ; while ( true ) ; } int h ( int x ) { while ( x < 1 ) x += 1 ; @13 } "
+        + "int i ( int x ) { do { break ; } while ( true ) ; return x ; } int j ( ) { try { return 1 ; } catch ( Slip z ) { } @13 } int k ( ) { try { ; } finally { return 1 ; } } "
+        + "int l ( ) { try { return 1 ; } catch ( Slip z ) { return 2 ; } finally { ; } } boolean m ( boolean x ) { if ( x ) { return x ; } else if ( x ) return x ; @13 } }");
   }
 
   private static void unset() {
@@ -93,6 +97,41 @@ public final class FlowTest {
     Door.body("int z ; if ( true ) z = 1 ; tell z ; int w ; if ( true || x < w ) ; final boolean u = false ; int v ; if ( u ) tell v ; tell @11 v ;");
     Door.body("int z ; if ( true && false || 1 < 2 ) z = 1 ; tell z ;");
     Door.body("int z ; if ( ( x < 1 || true ) ) z = 1 ; tell z ; int w ; if ( n < 1 ) w = 1 ; tell @11 w ;");
+  }
+
+  /** What is SET WHEN TRUE and WHEN FALSE behind ? : is what is so behind both its parts; behind any EXPR it is what is SET both ways. */
+  private static void bothWays() {
+    Door.body("int z ; if ( x < 1 ? x < 2 && ( z = 1 ) < 2 : x < 3 && ( z = 2 ) < 3 ) tell z ; else tell @11 z ;");
+    Door.body("int z ; if ( x < 1 ? x < 2 || ( z = 1 ) < 2 : x < 3 || ( z = 2 ) < 3 ) tell @11 z ; else tell z ;");
+    Door.body("int z ; if ( x < 1 ? x < 2 && ( z = 1 ) < 2 : ( z = 2 ) < 3 ) tell z ; else tell @11 z ;");
+    Door.body("int z ; if ( x < 1 ? ( z = 2 ) < 3 : x < 2 || ( z = 1 ) < 2 ) tell @11 z ; else tell z ;");
+    Door.body("int z ; if ( x < 1 ? true : ( z = 1 ) < 2 ) tell @11 z ; else tell z ;");
+    Door.body("int z ; if ( x < 1 ? ( z = 1 ) < 2 : true ) tell @11 z ; else tell z ;");
+    Door.body("int z ; if ( x < 1 ? false : ( z = 1 ) < 2 ) tell z ; else tell @11 z ;");
+    Door.body("int z ; if ( ( z = 1 ) < 2 ? x < 1 : x < 2 ) ; tell z ;");
+    Door.body("int z ; tell ( x < 1 && ( z = 1 ) < 2 ) == ( @11 z < 1 ) ;");
+    Door.body("int z ; tell x < 1 && ( z = 1 ) < 2 ; tell @11 z ;");
+    Door.body("int z ; tell x < 1 || ( z = 1 ) < 2 ; { tell @11 z ; }");
+    Door.body("int z ; boolean w = x < 1 && ( z = 1 ) < 2 ; w = x < 1 || ( z = 1 ) < 2 ; tell @11 z ;");
+    Door.faults("class a { void g ( boolean x , int y ) { } void f ( int x ) { int z ; g ( x < 1 && ( z = 1 ) < 2 , @11 z ) ; int w ; g ( x < 1 || ( w = 1 ) < 2 , @11 w ) ; } }");
+    Door.faults("class a { void f ( @3 b u , int x ) { int v ; if ( u ? x < 1 && ( v = 1 ) < 2 : x < 2 && ( v = 2 ) < 3 ) tell @11 v ; } }");
+    String text = "class a { void f ( int x ) { int z ; tell x < 1 && ( z = 1 ) < 2 ; ; tell x < 1 || ( z = 1 ) < 2 ; ; } }";
+    Sourcedoor door = Door.world(text);
+    Door.due("behind &&", door.isSet(0, Door.place(text, ";", 2), 25), 0);
+    Door.due("behind ||", door.isSet(0, Door.place(text, ";", 4), 25), 0);
+    // Behind each of the words that go away all are SET.
+    Door.body("int z ; while ( x < 3 ) { if ( x < 1 ) break ; else z = 1 ; tell z ; }");
+    Door.body("int z ; while ( x < 3 ) { if ( x < 1 ) continue ; else z = 1 ; tell z ; }");
+    Door.body("int z ; do { if ( x < 1 ) { { continue ; } } else z = 1 ; tell z ; } while ( x < 3 ) ;");
+    Door.body("int z ; if ( x < 1 ) return ; else z = 1 ; tell z ;");
+    Door.body("int z ; if ( x < 1 ) throw null ; else z = 1 ; tell z ;");
+    Door.body("int w ; if ( x < 1 ) { return ; @12 int z ; tell z ; tell w ; } int v ; tell @11 v ; tell @11 w ;");
+    // A try in the BLOCK, a catch and the finally of another one.
+    Door.body("int z ; try { try { ; } catch ( Slip w ) { } } catch ( Slip w ) { tell @11 z ; }");
+    Door.body("int z ; try { try { z = 1 ; } finally { } } catch ( Slip w ) { tell @11 z ; z = 2 ; } finally { tell @11 z ; } tell z ;");
+    Door.body("int z ; try { z = 1 ; try { } finally { } } catch ( Slip w ) { } tell @11 z ;");
+    Door.body("int z ; try { } catch ( Slip w ) { try { z = 1 ; } catch ( Slip v ) { } tell @11 z ; } catch ( Throw w ) { tell @11 z ; }");
+    Door.body("int z ; try { } finally { try { z = 1 ; } finally { tell @11 z ; } tell z ; } tell z ;");
   }
 
   private static void loops() {
@@ -134,6 +173,8 @@ public final class FlowTest {
         + "; } catch ( d x ) { } try { f ( ) ; } catch ( d x ) { } catch ( Throw x ) { } } }");
     Door.faults(e + "class a { void f ( ) throws e { } void g ( ) { try { f ( ) ; } catch ( e x ) { @14 f ( ) ; } finally { "
         + "@14 f ( ) ; } } void h ( ) { try { try { ; } finally { f ( ) ; } } catch ( e x ) { } } }");
+    Door.faults("class a { void f ( ) throws e { } void g ( ) { @14 f ( ) ; } } class e extends Throw { }");
+    Door.faults("class a { a ( ) throws e { } Object g ( ) { return @14 new a ( ) ; } } class e extends Throw { } class @14 b extends a { }");
     Door.faults(e + "class a { void f ( ) throws e { } void g ( ) { try { f ( ) ; } finally { return ; } } void h ( ) { try { "
         + "throw new e ( ) ; } finally { if ( true ) @14 f ( ) ; throw new s ( ) ; } } void i ( ) { try { ; } catch "
         + "( Slip x ) { f ( ) ; } finally { throw null ; } } }");
@@ -198,6 +239,14 @@ public final class FlowTest {
     Door.due("lost tell", door.reached(0, Door.place(lost, "tell", 0)), 2);
     Door.due("lost last while", door.reached(0, Door.place(lost, "while", 1)), 0);
     Door.due("lost ;", door.reached(0, Door.place(lost, ";", 2)), 2);
+    String parts = "class a { void f ( int x ) { return ; @12 if ( x < 1 ) tell 1 ; else { tell 2 ; return ; tell 3 ; } try { tell 4 ; } catch ( Slip z ) { tell 5 ; } finally { "
+        + "tell 6 ; } do tell 7 ; while ( x < 1 ) ; } }";
+    door = Door.faults(parts);
+    for (int k = 0; k < 7; k++) Door.due("lost tell " + k, door.reached(0, Door.place(parts, "tell", k)), 2);
+    Door.due("lost if with parts", door.reached(0, Door.place(parts, "if", 0)), 2);
+    Door.due("lost else", door.reached(0, Door.place(parts, "{", 2)), 0);
+    Door.due("lost try", door.reached(0, Door.place(parts, "try", 0)), 2);
+    Door.due("lost do", door.reached(0, Door.place(parts, "do", 0)), 2);
     String bad = "class a { void f ( ) { ; tell z ; } void g ( ) { ; } }";
     door = Door.world(bad);
     Door.due("reached in a faulty body", door.reached(0, Door.place(bad, ";", 0)), -1);

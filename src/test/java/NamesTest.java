@@ -6,6 +6,7 @@ public final class NamesTest {
   public static void main(String[] args) {
     meant();
     kinds();
+    choices();
     values();
     constants();
     binding();
@@ -127,6 +128,23 @@ public final class NamesTest {
     kind("(", 4, "-");
     kind("(", 5, "-");
     kind("(", 6, "-");
+  }
+
+  /** Of ? : with two INTS of which one is no Integer, with others, and with a CONSTANT int that fits a byte. */
+  private static void choices() {
+    String[] all = {
+      "1 : 2", "int", "1 : i", "int", "i : 1", "int", "b : i", "int", "i : b", "int", "l : i", "long", "i : l", "long", "i : i", "Integer", "b : b", "byte",
+      "b : 127", "byte", "- 128 : b", "byte", "b : 128", "int", "- 129 : b", "int", "b : x", "int", "b : l", "long", "1 : l", "long", "l : l", "long",
+      "1 : null", "Integer", "null : 1", "Integer", "i : null", "Integer", "null : i", "Integer", "null : null", "null", "o : 1", "Object", "1 : o", "Object",
+      "o : i", "Object", "i : o", "Object", "this : null", "a", "null : this", "a", "this : o", "Object", "o : this", "Object", "t : u", "Throw", "u : t", "Throw",
+      "true : false", "boolean", "b : null", "-", "null : b", "-", "l : null", "-", "null : l", "-", "null : true", "-", "true : null", "-", "1 : true", "-",
+      "o : b", "-", "l : o", "-", "this : t", "-", "t : i", "-", "1 : u", "-", "f ( ) : f ( )", "-", "null : f ( )", "-", "f ( ) : 1", "-",
+    };
+    for (int k = 0; k < all.length; k += 2) {
+      world("class a { void f ( ) { } void g ( byte b , int x , long l , Integer i , Object o , Throw t , Slip u , boolean v ) { tell v ? " + all[k] + " ; } }");
+      kind("?", 0, all[k + 1]);
+      Door.due("fault of " + text, door.faults(0), all[k + 1].equals("-") ? "5@" + at("?", 0) : "");
+    }
   }
 
   private static void values() {

@@ -7,6 +7,8 @@ public final class RunsTest {
     refused();
     values();
     boxes();
+    boxesOfParts();
+    manyObjects();
     references();
     evaluation();
     calls();
@@ -117,6 +119,29 @@ public final class RunsTest {
     body("long z = x < 5 ? ( Integer ) 7 : ( long ) 2 ; tell z ; Object o = x < 5 ? 1 : new Object ( ) ; tell o ; return 0 ;", 3, 0, "7 1", "0");
   }
 
+  private static void boxesOfParts() {
+    body("Integer i = x ; tell x < 1 ? 2 : i ; Object o = x < 1 ? i : 5 ; tell o ; tell o instanceof Integer ; o = x < 1 ? ( Object ) new a ( ) : x ; tell o ; "
+        + "tell x < 1 ? null : 6 ; i = null ; return x < 1 ? 3 : i ;", 3, 0, "3 5 true 3 6", "!Null");
+    body("Integer i = null ; long z = x < 5 ? i : ( long ) 1 ; return 1 ;", 3, 0, "", "!Null");
+    body("Integer i = null ; tell x < 5 ? i : null ; tell x < 5 ? 4 : i ; return 1 ;", 3, 0, "null 4", "1");
+    body("Integer i = null ; tell null == i ; tell i == null ; tell null != i ; i = 4 ; tell null == i ; tell null != i ; Object o = null ; tell null == o ; return 1 ;",
+        3, 0, "true true false false true true", "1");
+    body("Integer i = 4 ; Object o = 4 ; tell o == i ; tell i == o ; o = 5 ; tell i != o ; o = new Slip ( ) ; tell o == i ; tell i == null ; tell i == 4 ; tell ( long ) 4 == i ; "
+        + "return 1 ;", 3, 0, "true true true false false true true", "1");
+  }
+
+  /** More than has room at first: each object keeps its own fields, as far as they may go. */
+  private static void manyObjects() {
+    StringBuilder fields = new StringBuilder();
+    for (int k = 1; k < 30; k++) fields.append("long ").append((char) (k < 26 ? 'a' + k : 'A' + k - 26)).append(" ; ");
+    run("class a { a a ; " + fields + "static long M ( int x , int y ) { a z = null ; int s = 0 ; while ( s < x ) { a w = new a ( ) ; w . b = s ; w . D = s * s ; "
+        + "w . a = z ; z = w ; s += 1 ; } long t = 0 ; while ( z != null ) { t += z . b * 1000 + z . D + z . c ; z = z . a ; } return t ; } }",
+        150, 0, "", "" + (149 * 150 / 2 * 1000L + 149L * 150 * 299 / 6));
+    body("int s = 0 ; while ( s < 150 ) { try { s += 1 ; throw new Slip ( ) ; } catch ( Slip z ) { } } return s ;", 0, 0, "", "150");
+    outcome(body("int s = 0 ; while ( s < 150 ) try { s += 1 ; throw new Slip ( ) ; } catch ( Slip z ) { try { throw z ; } catch ( Slip w ) { } } return s ;", 0, 0, "", "150"),
+        0, 5 + 6 * 150, 1, 1, 150, 150);
+  }
+
   private static void references() {
     String types = "interface i { } class b implements i { } class c extends b { static b f ( int x ) { if ( x == 1 ) return "
         + "new b ( ) ; if ( x == 2 ) return new c ( ) ; return null ; } ";
@@ -182,6 +207,8 @@ public final class RunsTest {
         + "( z ) ; } }", 1, 2, "1 2 3 3", "4");
     run("class a { int k ; int f ( int k ) { this . k = k ; return k + this . k ; } int k ( ) { return k ; } "
         + "static int M ( int x , int y ) { a z = new a ( ) ; tell z . f ( 4 ) ; return z . k ( ) ; } }", 1, 2, "8", "4");
+    run("class b { int k = 5 ; static int n = 7 ; } class a extends b { int k = 2 ; int n = 1 ; int f ( ) { super . k += 3 ; super . n = 9 ; tell super . k ; tell super . n ; "
+        + "return super . k * 10 + k + n ; } static int M ( int x , int y ) { a z = new a ( ) ; tell z . f ( ) ; tell z . k ; return ( ( b ) z ) . k ; } }", 1, 2, "8 9 83 2", "8");
     run("class a { static int f ( int x ) { return x < 2 ? x : f ( x - 1 ) + f ( x - 2 ) ; } static int M ( int x "
         + ", int y ) { return f ( x ) ; } }", 10, 2, "", "55");
   }
@@ -209,6 +236,12 @@ public final class RunsTest {
     Sourcedoor door = run("class a { static int f ( int x ) { return 1 div x ; } static int k = f ( 0 ) ; static int M ( int x , int "
         + "y ) { tell 1 ; return 1 ; } }", 1, 2, "", "!Divide");
     outcome(door, 0, 2, 1, 1, 1, 1);
+    door = run("class a { static int k = 1 div 0 ; static int M ( int x , int y ) { return 1 ; } }", 1, 2, "", "!Divide");
+    outcome(door, 0, 0, 0, 0, 1, 1);
+    door = run("class a { static Integer n ; static int k = n ; static int M ( int x , int y ) { return 1 ; } }", 1, 2, "", "!Null");
+    outcome(door, 0, 0, 0, 0, 1, 1);
+    door = run("class a { static int M ( int x , int y ) { return 1 ; } } interface i { Object o = new Slip ( ) ; Object n = ( a ) o ; }", 1, 2, "", "!Cast");
+    outcome(door, 0, 0, 0, 0, 2, 1);
     door = Door.faults("class a { static int k = b . n + 1 ; static int M ( int x , int y ) { return k ; } }", "class b { static int n = i . m * 2 ; }", "interface i { int m = a . k + 3 ; }");
     run(door, "statics of several units", 1, 2, "", "1");
     Door.due("another run", door.run(0, 1, 1), 1);
@@ -244,6 +277,9 @@ public final class RunsTest {
         + "return s ; } }", 1, 0, "1 0 0 3 0", "3");
     run(types + main + "while ( true ) { try { try { break ; } finally { tell 1 ; } } finally { tell 2 ; } } tell 3 ; try { while "
         + "( true ) { break ; } tell 4 ; } finally { tell 5 ; } return 0 ; } }", 1, 0, "1 2 3 4 5", "0");
+    run(types + main + "while ( true ) { try { try { break ; } finally { while ( true ) { tell 1 ; break ; } } } finally { tell 2 ; } } tell 3 ; return 0 ; } }", 1, 0, "1 2 3", "0");
+    run(types + main + "while ( x < 3 ) { x += 1 ; try { try { continue ; } finally { do { tell x ; continue ; } while ( false ) ; } } finally { tell 5 ; } } return 0 ; } }", 1, 0, "2 5 3 5", "0");
+    run(types + main + "while ( true ) { try { try { return x ; } finally { while ( true ) { x += 1 ; if ( 3 < x ) break ; } } } finally { tell x ; } } } }", 1, 0, "4", "1");
     run(types + main + "try { throw null ; } catch ( Null z ) { tell z ; } try { tell 1 div 0 ; } catch ( Slip z ) { tell z ; "
         + "throw z ; } finally { tell 4 ; } return 1 ; } }", 1, 0, "Null Divide 4", "!Divide");
     run(types + main + "try { try { f ( 1 ) ; } catch ( e z ) { f ( 2 ) ; } catch ( Slip z ) { tell 9 ; } finally { tell 1 ; } } "
