@@ -285,6 +285,10 @@ public final class FaultsTest {
     Door.faults("class a { a f ( ) { return null ; } int g ( ) { return 1 ; } Integer h ( ) { return 1 ; } } "
         + "class b extends a { Object @7 f ( ) { return null ; } Integer @7 g ( ) { return 1 ; } Throw @7 h ( ) { return null ; } } "
         + "class c extends a { c f ( ) { return this ; } }");
+    // Any of those that it throws may be the reason.
+    Door.faults("class e extends Throw { } class a { void f ( ) { } } class b extends a { void @7 f ( ) throws Slip , e { } }");
+    Door.faults("class e extends Throw { } class a { void f ( ) throws Null { } } class b extends a { void @7 f ( ) throws e , Slip { } } class c extends a { void f ( ) throws "
+        + "Slip , Cast { } }");
     // A kind that means nothing is no reason.
     Door.faults("class a { int f ( ) { return 1 ; } @3 z g ( ) { return 1 ; } void h ( @3 z x ) { } } class b extends a { "
         + "@3 z f ( ) { return 1 ; } int g ( ) { return 1 ; } static void @7 h ( @3 z x ) { } }");

@@ -278,6 +278,8 @@ public final class RunsTest {
     run(types + main + "while ( true ) { try { try { break ; } finally { tell 1 ; } } finally { tell 2 ; } } tell 3 ; try { while "
         + "( true ) { break ; } tell 4 ; } finally { tell 5 ; } return 0 ; } }", 1, 0, "1 2 3 4 5", "0");
     run(types + main + "while ( true ) { try { try { break ; } finally { while ( true ) { tell 1 ; break ; } } } finally { tell 2 ; } } tell 3 ; return 0 ; } }", 1, 0, "1 2 3", "0");
+    run(types + main + "try { while ( true ) { try { try { break ; } finally { while ( true ) break ; } } finally { tell 2 ; } } tell 3 ; } finally { tell 4 ; } tell 5 ; "
+        + "return 0 ; } }", 1, 0, "2 3 4 5", "0");
     run(types + main + "while ( x < 3 ) { x += 1 ; try { try { continue ; } finally { do { tell x ; continue ; } while ( false ) ; } } finally { tell 5 ; } } return 0 ; } }", 1, 0, "2 5 3 5", "0");
     run(types + main + "while ( true ) { try { try { return x ; } finally { while ( true ) { x += 1 ; if ( 3 < x ) break ; } } } finally { tell x ; } } } }", 1, 0, "4", "1");
     run(types + main + "try { throw null ; } catch ( Null z ) { tell z ; } try { tell 1 div 0 ; } catch ( Slip z ) { tell z ; "
