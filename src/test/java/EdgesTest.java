@@ -491,8 +491,8 @@ public final class EdgesTest {
     Door.due("ifs", door.result() + "/" + door.outcome(2), "1/38");
     door.run(0, 0, 0);
     Door.due("ifs that are not so", door.result() + "/" + door.outcome(2), "2/3");
-    door = Door.faults("class a { static int M ( int x , int y ) { " + Door.times(36, "do").trim() + " x += 1 ; " + Door.times(30, "while ( false ) ;")
-        + Door.times(6, "while ( false ) ;") + "return x ; } }");
+    door = Door.faults("class a { static int M ( int x , int y ) { " + Door.times(36, "do").trim() + " x += 1 ; " + Door.times(36, "while ( false ) ;")
+        + "return x ; } }");
     door.run(0, 1, 0);
     Door.due("dos", door.result() + "/" + door.outcome(2), "2/" + (1 + 36 + 1 + 36 + 1));
     door = Door.faults("class a { static int M ( int x , int y ) { " + Door.times(27, "if ( x == 1 ) ; else") + "; return x ; } }");

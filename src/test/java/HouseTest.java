@@ -41,8 +41,8 @@ public final class HouseTest {
     Door.type(door, 3, "class");
     Door.due("sound though it is not well", door.isSound(), true);
     Door.due("no run", door.outcome(0), -1);
-    Sourcedoor turned = Door.world("class a { a ( ) { } int f ( ) { return 1 ; } static int M ( int x , int y ) { return new a ( ) . f ( ) ; } int k = 2 ; a ( int x ) { } }"
-        , "class b { static void M ( int x , int y ) { tell x ; } b ( ) { } }");
+    Sourcedoor turned = Door.world("class a { a ( ) { } int f ( ) { return 1 ; } static int M ( int x , int y ) { return new a ( ) . f ( ) ; } int k = 2 ; a ( int x ) { } }",
+        "class b { static void M ( int x , int y ) { tell x ; } b ( ) { } }");
     String text = turned.text(0) + turned.text(1);
     Door.due("sound", turned.isSound(), true);
     Door.due("the texts stay", turned.text(0) + turned.text(1), text);
