@@ -7,6 +7,7 @@ public final class ReusedTest {
   public static void main(String[] args) {
     firstBehindEachChange();
     manyTextsOneAfterTheOther();
+    asManyCallsAsAnObjectIsGoodFor();
     Door.end();
   }
 
@@ -190,6 +191,36 @@ public final class ReusedTest {
           if (random(2) == 0) door.cut(k, 240);
         }
     }
+  }
+
+  // ---- 512 calls of one object whose texts are long: what each of them looks through does not add up
+
+  private static void asManyCallsAsAnObjectIsGoodFor() {
+    String locals = ofNames(32, "int # = z + 1 ; ", "xyz");
+    Sourcedoor door = new Sourcedoor();
+    Door.type(door, 0, "class a { static int M ( int x , int y ) { int z = 5 ; " + locals + "return z + y ; } }");
+    Door.type(door, 1, "interface b { " + ofNames(28, "int # ( int x ) ; ", "") + "}");
+    Door.type(door, 2, "class c { " + ofNames(38, "int # = 1 ; ", "") + "}");
+    Door.type(door, 3, "class d { d n ; } " + ofNames(26, "class # extends d { } ", "abcd"));
+    int calls = 0;
+    for (int unit = 0; unit < 4; unit++) calls += (door.ofUnit(unit, 0) + 4) / 5 + 1;
+    int place = Door.place(door.text(0), "5", 0);
+    for (int k = 0; calls + 3 <= 512; k++, calls += 3) {
+      door.change(0, place, 1000 + k);
+      Door.due("run " + k, door.run(0, 0, 7), 1);
+      Door.due("result " + k, door.result(), "" + (k + 7));
+    }
+    Door.due("no faults", door.house(2), 0);
+  }
+
+  /** Something for each of so many names, but for some of these. */
+  private static String ofNames(int many, String pattern, String without) {
+    StringBuilder text = new StringBuilder();
+    for (int k = 0; k < many; k++) {
+      char name = (char) (k < 26 ? 'a' + k : 'A' + k - 26);
+      if (without.indexOf(name) < 0) text.append(pattern.replace('#', name));
+    }
+    return text.toString();
   }
 
   private static String all(Sourcedoor door, int unit) {
