@@ -200,7 +200,7 @@ public final class EdgesTest {
     }
     // By running and by folding alike.
     String[] signs = {"+", "-", "*", "div", "%", "<", "<=", "==", "!="};
-    int[] numbers = {Integer.MIN_VALUE, Integer.MIN_VALUE + 1, -1, 0, 1, 2, Integer.MAX_VALUE};
+    int[] numbers = {Integer.MIN_VALUE, Integer.MIN_VALUE + 1, -7, -2, -1, 0, 1, 2, 7, Integer.MAX_VALUE};
     for (String sign : signs) {
       boolean tells = sign.equals("<") || sign.equals("<=") || sign.equals("==") || sign.equals("!=");
       Sourcedoor door = Door.faults("class a { static " + (tells ? "boolean" : "int") + " M ( int x , int y ) { return x " + sign + " y ; } }",

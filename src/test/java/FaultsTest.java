@@ -88,6 +88,9 @@ public final class FaultsTest {
     Door.faults("class a { int f ( ) { do ; @1 tell 1 ; } }");
     Door.faults("class a { int k = 1 @1 : 2 ; }");
     Door.faults("class a { int k = 1 ? 2 @1 ; }");
+    for (String each : new String[] {")", ",", ";", "}", "{"}) Door.faults("class a { int k = ( true ? 1 @1 " + each + " ; }");
+    for (String each : new String[] {")", ",", ";", "}"}) Door.faults("class a { int k = f ( true ? 1 @1 " + each + " ; }");
+    for (String each : new String[] {":", ";", "}"}) Door.faults("class a { int k = f ( 1 @1 " + each + " 2 ) ; }");
     Door.faults("class a { int k = f ( 1 , @1 ) ; }");
     Door.faults("class a { int k = ( @1 ) ; }");
     Door.faults("class a { int k = ( 1 @1 , 2 ) ; }");
@@ -135,6 +138,7 @@ public final class FaultsTest {
   private static void twice() {
     Door.faults("import p . a ; import p . @2 a ;", "package p ; class a { }");
     Door.faults("import p . a ; import q . @2,3 a ;", "package p ; class a { }");
+    Door.faults("import p . a ; import p . b ; import p . @2 a ;", "package p ; class a { } class b { }");
     Door.faults("import p . @2 a ; class a { }", "package p ; class a { }");
     Door.faults("package p ; import p . @2 a ; class a { }");
     Door.faults("class a { } class @2 a { }", "class @2 a { }", "package p ; class a { }");
@@ -289,6 +293,8 @@ public final class FaultsTest {
     Door.faults("class e extends Throw { } class a { void f ( ) { } } class b extends a { void @7 f ( ) throws Slip , e { } }");
     Door.faults("class e extends Throw { } class a { void f ( ) throws Null { } } class b extends a { void @7 f ( ) throws e , Slip { } } class c extends a { void f ( ) throws "
         + "Slip , Cast { } }");
+    // What is no CHECKED one is no reason, whatever is wrong with it.
+    Door.faults("class a { void f ( ) { } } class b extends a { void f ( ) throws @3 z , @5 Object , @5 a { } }");
     // A kind that means nothing is no reason.
     Door.faults("class a { int f ( ) { return 1 ; } @3 z g ( ) { return 1 ; } void h ( @3 z x ) { } } class b extends a { "
         + "@3 z f ( ) { return 1 ; } int g ( ) { return 1 ; } static void @7 h ( @3 z x ) { } }");
@@ -325,6 +331,9 @@ public final class FaultsTest {
         + "( ) { return new Throw ( ) ; } }");
     Door.faults("class a { a ( int x , Integer y ) { } a ( Integer x , int y ) { } a ( ) { @8 this ( 1 , 1 ) ; } Object f "
         + "( ) { return @8 new a ( 1 , 1 ) ; } }");
+    // What another call finds is none of those that this one may mean.
+    Door.faults("class a { void f ( a x , Object y ) { } void f ( Object x , a y ) { } void f ( a x , a y ) { } void g ( a x , Object y ) { } "
+        + "void g ( Object x , a y ) { } void h ( ) { f ( null , null ) ; @8 g ( null , null ) ; } }");
   }
 
   private static void statics() {
@@ -351,6 +360,8 @@ public final class FaultsTest {
 
   private static void stands() {
     Door.body("@16 break ; @16 continue ; while ( x < 1 ) { break ; } while ( x < 1 ) if ( true ) { continue ; } do { break ; } while ( x < 1 ) ;");
+    // Behind a loop in a loop one is in the outer loop still.
+    Door.body("while ( x < 1 ) { do ; while ( x < 2 ) ; break ; } do { while ( x < 1 ) ; if ( x < 2 ) continue ; do ; while ( x < 3 ) ; break ; } while ( true ) ; @16 break ;");
     Door.body("@16 1 ; @16 x ; x @16 + 1 ; @16 - x ; @16 ( int ) x ; @16 this ; x @16 == 1 ; true @16 ? 1 : 2 ; this . "
         + "@16 k ; ( @16 x ) ; y @16 instanceof a ;");
     Door.body("x = 1 ; x += 1 ; f ( x , y ) ; ( f ( x , y ) ) ; new a ( ) ; this . f ( 1 , y ) ; new a ( ) . k = 3 ;");

@@ -88,6 +88,10 @@ public final class FlowTest {
     Door.body("int z ; if ( ! ( x < 1 && ( z = 1 ) < 2 ) ) tell @11 z ; else tell z ;");
     Door.body("int z ; if ( ! ( x < 1 || ( z = 1 ) < 2 ) ) tell z ; tell @11 z ;");
     Door.body("int z ; boolean w = x < 1 && ( z = 1 ) < 2 && z < 3 ; tell @11 z ;");
+    Door.body("int z ; if ( x < 1 && ( z = 1 ) < 2 || x == 5 ) tell @11 z ; int w ; if ( x == 5 || x < 1 && ( w = 1 ) < 2 ) tell @11 w ;");
+    Door.body("int z ; if ( ( x < 1 || ( z = 1 ) < 2 ) && x == 5 ) ; else tell @11 z ; int w ; if ( x == 5 && ( x < 1 || ( w = 1 ) < 2 ) ) ; else tell @11 w ;");
+    Door.body("int z ; if ( x < 1 && ( z = 1 ) < 2 || x == 5 && ( z = 2 ) < 3 ) tell z ; else tell @11 z ;");
+    Door.body("int z ; if ( ( x < 1 || ( z = 1 ) < 2 ) && ( x == 5 || ( z = 2 ) < 3 ) ) tell @11 z ; else tell z ;");
     Door.body("int z ; if ( ( x < 1 && ( z = 1 ) < 2 ) == true ) tell @11 z ;");
     Door.body("int z ; if ( x < 1 ? ( z = 1 ) < 2 : ( z = 3 ) < 4 ) tell z ; tell z ; int w ; if ( x < 1 ? ( w = 1 ) < 2 : x < 3 ) tell @11 w ;");
     Door.body("int z ; if ( x < 1 ? ( z = 1 ) < 2 : false ) tell z ; else tell @11 z ;");
@@ -147,6 +151,9 @@ public final class FlowTest {
     Door.body("int z ; do { if ( x < 1 ) break ; z = 1 ; } while ( z < 1 ) ; tell @11 z ;");
     Door.body("int z ; do { z = 1 ; if ( x < 1 ) continue ; } while ( z < 1 ) ; tell z ;");
     Door.body("int z ; do ; while ( ( z = x ) < 1 ) ; tell z ;");
+    // Of several continues and breaks each counts, not just the last one.
+    Door.body("int z ; do { if ( x < 1 ) continue ; z = 1 ; if ( x < 2 ) continue ; } while ( @11 z < 1 ) ;");
+    Door.body("int z ; do { if ( x < 1 ) break ; z = 1 ; if ( x < 2 ) break ; } while ( z < 1 ) ; tell @11 z ;");
   }
 
   private static void tries() {
@@ -157,6 +164,7 @@ public final class FlowTest {
     Door.body("int z ; try { ; } catch ( Slip w ) { ; } finally { z = 1 ; } tell z ;");
     Door.body("int z ; try { z = 1 ; } finally { ; } tell z ;");
     Door.body("int z ; try { return ; } finally { tell @11 z ; }");
+    Door.body("int z ; try { ; } catch ( Slip w ) { z = 1 ; } tell @11 z ; int v ; try { ; } catch ( Null w ) { ; } catch ( Slip w ) { v = 1 ; } tell @11 v ;");
   }
 
   private static void uncaught() {
@@ -182,6 +190,14 @@ public final class FlowTest {
         + "Object m = f ( @3 z ) ; }");
     Door.faults(e + "class a { int f ( int x ) throws e { return 1 ; } int g ( ) { return @14 f ( @14 f ( 1 ) ) ; } int h ( ) "
         + "throws @3 z , e { return f ( 1 ) ; } }");
+    // REFS of PARAMS are none of those that it throws.
+    Door.faults(e + "class a { void f ( a x , d y ) throws e { } void g ( ) { @14 f ( null , null ) ; } void h ( d x ) throws e { f ( null , x ) ; } "
+        + "a ( a x , e y ) throws d { } Object i ( ) throws d { return new a ( null , null ) ; } }");
+    // A FIELD ahead of all METHODS stands in no try, either.
+    Door.faults("class a { int k = @14 f ( ) ; static int n = @14 g ( ) ; int f ( ) throws Throw { return 1 ; } static int g ( ) throws Throw { return 1 ; } }");
+    // Where the UNIT ahead breaks off in a try, nothing of that is left.
+    Door.faults("class a { void f ( ) { while ( true ) try { f ( ) ; @1", "class e extends Throw { } class b { static int k = @14 f ( ) ; static int f ( ) throws e { return 1 ; } }");
+    Door.faults("class a { void f ( ) { try { } finally { @1", "class b { int k = @14 f ( ) ; int f ( ) throws Throw { @16 break ; } }");
   }
 
   private static void never() {
@@ -251,6 +267,16 @@ public final class FlowTest {
     door = Door.world(bad);
     Door.due("reached in a faulty body", door.reached(0, Door.place(bad, ";", 0)), -1);
     Door.due("reached in another one", door.reached(0, Door.place(bad, ";", 2)), 3);
+    // Nothing of a UNIT with a FAULT SYNTAX is left, however long the ones behind it are.
+    for (int many = 0; many < 20; many++) {
+      String begin = many % 2 == 0 ? "super ( ) ; " : "";
+      door = Door.world("class a { int f ( ) { ; ; ; { ; } if ( true ) ; else ; while ( true ) ; } int g", "class b { b ( ) { " + begin + Door.times(many / 2, ";") + "} int f ( ) { return 1 ; } }");
+      Door.due("faults behind what is no UNIT", door.faults(1), "");
+      for (int place = 0; place < door.ofUnit(0, 0); place++) {
+        Door.due("reached in what is no UNIT", door.reached(0, place), -1);
+        Door.due("set in what is no UNIT", door.isSet(0, place, 0), -1);
+      }
+    }
     Door.throwing("reached place", IndexOutOfBoundsException.class, () -> new Sourcedoor().reached(0, 0));
     Door.throwing("reached unit", IndexOutOfBoundsException.class, () -> new Sourcedoor().reached(4, 0));
   }
@@ -277,6 +303,10 @@ public final class FlowTest {
     Door.due("later one of that name", door.isSet(0, Door.place(text, ";", 9), w), 1);
     Door.due("faulty body", door.isSet(0, Door.place(text, "tell", 3), z), -1);
     String lost = "class a { void f ( ) { int z ; return ; ; } }";
+    String caught = "class a { void f ( int x ) { try { ; } catch ( Slip v ) { ; } { int w = 1 ; ; } } }";
+    Door.due("the last item in a catch", Door.world(caught).isSet(0, Door.place(caught, ";", 1), v), 1);
+    Door.due("behind the catch", Door.world(caught).isSet(0, Door.place(caught, "int", 1) - 1, v), -1);
+    Door.due("the last item in a block", Door.world(caught).isSet(0, Door.place(caught, ";", 3), w), 1);
     Door.due("behind a return all are set", Door.world(lost).isSet(0, Door.place(lost, ";", 2), z), 1);
     String ends = "class a { void f ( int a , int N ) { ; } }";
     Door.due("the first name", Door.world(ends).isSet(0, Door.place(ends, ";", 0), 0), 1);

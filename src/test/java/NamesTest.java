@@ -178,6 +178,13 @@ public final class NamesTest {
     value("!=", 0, "true");
     value("(", 4, "false");
     value("tell", 0, "-");
+    world("class a { void f ( ) { tell ( Object ) 5 ; tell ( long ) 5 ; tell ( Integer ) ( byte ) 5 ; } }");
+    value("(", 1, "-");
+    kind("(", 1, "Object");
+    value("(", 2, "5");
+    kind("(", 2, "long");
+    value("(", 3, "-");
+    value("(", 4, "5");
   }
 
   private static void constants() {
@@ -210,6 +217,11 @@ public final class NamesTest {
     value("k", 0, "-");
     kind("k", 0, "int");
     value("k", 1, "3");
+    // Some of them turn out to be constant at last, and the last one not at all.
+    world("class a { static final int k = n + 1 ; static final int n = m + 1 ; static final int m = 3 ; static final int b = f ( ) ; static int f ( ) { return k ; } }");
+    value("+", 0, "5");
+    value("k", 1, "5");
+    value("n", 0, "4");
     // They may hang on one another in any sequence, and over units.
     world("class a { static final int k = b . k + 1 ; }", "class b { static final int n = 4 ; static final int k = c . k * n ; }", "class c { static final byte k = 10 ; }");
     value("+", 0, "41");
@@ -217,12 +229,17 @@ public final class NamesTest {
     value("+", 0, "-");
     value("y", 1, "127");
     value("z", 1, "-");
+    // No REF is constant, whatever stands behind its =.
+    world("class a { static final Object k = 5 ; static final Integer n = 5 ; void f ( ) { final Object x = 5 ; final Integer y = 5 ; tell x ; tell y ; tell k ; tell n ; } }");
+    for (String name : new String[] {"x", "y", "k", "n"}) value(name, 1, "-");
+    kind("x", 1, "Object");
+    kind("k", 1, "Object");
   }
 
   /** From the loosest sign on, and of like ones the left one first: told by what each of two signs is then. */
   private static void binding() {
     String[][] all = {
-      {"true || true && false", "||", "true", "&&", "false"}, {"false && true || true", "&&", "false", "||", "true"},
+      {"true || true && false", "||", "true", "&&", "false"}, {"true || false && true", "||", "true", "&&", "false"}, {"false && true || true", "&&", "false", "||", "true"},
       {"false && false == false", "&&", "false", "==", "true"}, {"false == false && false", "==", "true", "&&", "false"},
       {"true == 1 < 2", "==", "true", "<", "true"}, {"true != 2 <= 1", "!=", "true", "<=", "false"}, {"1 < 2 == false", "<", "true", "==", "false"},
       {"1 < 2 + 3", "<", "true", "+", "5"}, {"5 - 3 <= 1", "-", "2", "<=", "false"}, {"2 + 3 * 4", "+", "14", "*", "12"}, {"2 * 3 + 4", "*", "6", "+", "10"},

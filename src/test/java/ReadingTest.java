@@ -59,7 +59,7 @@ public final class ReadingTest {
   private static final int[][] ARGUMENTS = {{3, 2}, {0, -1}, {-5, 7}, {1, Integer.MIN_VALUE}};
   private static final int ROUNDS = 1500;
   private static long seed = 20261119;
-  private static int well;
+  static int well;
 
   public static void main(String[] args) {
     for (String[] world : WORLDS) compare(world);
@@ -82,7 +82,7 @@ public final class ReadingTest {
     return (int) ((seed >>> 33) % below);
   }
 
-  private static void mix(List<String> words) {
+  static void mix(List<String> words) {
     int at = random(words.size());
     switch (random(8)) {
       case 0:
@@ -116,7 +116,7 @@ public final class ReadingTest {
     if (!got.equals(want)) Door.due(what + " of " + String.join(" | ", world), got, want);
   }
 
-  private static void compare(String[] texts) {
+  static void compare(String[] texts) {
     world = texts;
     Sourcedoor door = Door.world(texts);
     Reading reading = new Reading(texts);

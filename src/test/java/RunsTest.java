@@ -290,6 +290,10 @@ public final class RunsTest {
     run(types + main + "try { try { throw new e ( ) ; } finally { try { throw new d ( ) ; } catch ( d z ) { tell 1 ; } } } catch "
         + "( Throw z ) { tell z ; } return 0 ; } }", 1, 0, "1 e", "0");
     run(types + main + "try { try { throw new e ( ) ; } catch ( e z ) { throw z ; } } catch ( Throw z ) { throw z ; } } }", 1, 0, "", "!e");
+    // Behind a try without a finally, in the BLOCK, the catch and the finally of another one, that other one goes on.
+    run(types + main + "try { try { tell 1 ; } catch ( Slip z ) { } throw new Slip ( ) ; } catch ( Slip z ) { tell 2 ; } finally { tell 3 ; } return 4 ; } }", 1, 0, "1 2 3", "4");
+    run(types + main + "try { try { throw new Slip ( ) ; } catch ( Slip z ) { tell 1 ; } throw new Null ( ) ; } catch ( Slip z ) { try { } catch ( Slip w ) { } "
+        + "tell 2 ; throw z ; } finally { try { tell 3 ; } catch ( Slip w ) { } tell 4 ; } } }", 1, 0, "1 2 3 4", "!Null");
   }
 
   private static void counts() {
@@ -380,5 +384,14 @@ public final class RunsTest {
     Door.due("text", door.text(0), text);
     Door.due("the last run stays", door.output(), "8 1");
     Door.due("turned of an empty world", new Sourcedoor().isTurned(3, 0, 0), true);
+    Sourcedoor all = Door.faults("interface i { int k = 3 ; void f ( ) ; int g ( int x ) throws Throw ; int n = k + 1 ; } abstract class b implements i { static int m ; "
+        + "abstract int h ( ) ; b ( ) { m += 1 ; } abstract int h ( int x ) ; int l = 5 ; "
+        + "b ( int x ) { this ( ) ; } int g ( int x ) { return x + h ( x ) ; } }",
+        "class a extends b { int h ( ) { return 1 ; } int d = 2 ; a ( int x ) { super ( x ) ; } int h ( int x ) { return l * d ; } "
+            + "void f ( ) { tell n ; } static int M ( int x , int y ) { a z = new a ( x ) ; z . f ( ) ; return z . g ( y ) + m ; } a ( ) { } }");
+    Door.due("turned with all sorts of members", all.isTurned(1, 2, 3), true);
+    Door.due("run", all.run(1, 2, 3), 1);
+    Door.due("told", all.output() + "/" + all.result(), "4/14");
+    Door.due("sound", all.isSound(), true);
   }
 }

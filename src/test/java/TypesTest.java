@@ -32,6 +32,8 @@ public final class TypesTest {
     Door.due("main", door.main(0), Door.place(text, "M", 3));
     Door.due("main without", door.main(1), -1);
     Door.due("main of a broken one", Door.world("class a { static int M ( int x , int y ) { return 1 ; }").main(0), -1);
+    Door.due("main of a broken one ahead of another unit", Door.world("class a { int k ; int n ; static int M ( int x , int y ) { return 1 ; } ;",
+        "class b { void f ( int x , int y ) { } }").main(0), -1);
     Door.due("main in an interface", Door.world("interface a { int M ( int x , int y ) ; }").main(0), -1);
     Door.throwing("main unit", IndexOutOfBoundsException.class, () -> door.main(-1));
   }
@@ -82,6 +84,12 @@ public final class TypesTest {
     Door.due("subtypes", door.subtypes(0, 0), "b a c");
     Door.due("subtypes of an interface", door.subtypes(1, 0), "b j c");
     Door.due("subtypes without", door.subtypes(2, 0), "");
+    // In whatever sequence they stand.
+    Sourcedoor upwards = Door.world("class f extends e { } class e extends d { } class d extends c { } class c extends b { } class b extends a { } class a { } class z { }");
+    for (int k = 0; k < 7; k++) {
+      for (int m = 0; m < 7; m++) Door.due("upwards " + k + " " + m, upwards.isSubtype(0, k, 0, m), k == m || k < m && m < 6);
+    }
+    Door.due("the lowest one's names", upwards.subtypes(0, 5), "f e d c b");
     Door.throwing("isSubtype type", IndexOutOfBoundsException.class, () -> door.isSubtype(0, 3, 0, 0));
     Door.throwing("isSubtype other type", IndexOutOfBoundsException.class, () -> door.isSubtype(0, 0, 2, 1));
     Door.throwing("isSubtype unit", IndexOutOfBoundsException.class, () -> door.isSubtype(0, 0, 4, 0));
