@@ -2416,6 +2416,8 @@ public final class Sourcedoor {
       if (token == INSTANCEOF) {
         if (isName(rows.peek(0))) world.addRef(rows.here(), R_PLAIN, NONE);
         if (rows.takeKind(true)) complete(at, E_INSTANCE, takeOperand(), NONE);
+        // A sign that binds tighter would need the REF for its left part, and that is no UNARY.
+        if (levelOf(rows.peek(0)) > level) rows.fail();
       } else {
         if (level <= LEVEL_AND) tree.emit(EV_MIDDLE, at);
         enter(X_BINARY, at, level);

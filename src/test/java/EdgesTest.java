@@ -6,6 +6,7 @@ public final class EdgesTest {
     nothing();
     nine();
     unaries();
+    instances();
     casts();
     behindTheLast();
     smallBytes();
@@ -119,6 +120,42 @@ public final class EdgesTest {
     Door.faults("class a { int k = true ? - - - - - - - - 1 : - - - - - - - - 1 ; }");
     // A REF in ( ) ahead of - is no cast, so no UNARY begins by it; but the - behind it is between two.
     Door.faults("class a { static int n ; int k = - - - - - - - - ( n ) - - - - - - - - - 1 ; }");
+  }
+
+  // ---- section 2: behind the REF of an instanceof stands no sign that binds tighter
+
+  private static void instances() {
+    for (String sign : new String[] {"+", "-", "*", "div", "%"}) {
+      Sourcedoor door = Door.faults("class a { boolean b = null instanceof Object @1 " + sign + " 1 ; }");
+      Door.due("types of " + door.text(0), door.ofUnit(0, 1), 0);
+      Door.due("kind of the instanceof", door.kind(0, 7), "-");
+      String text = "class a { boolean b ( Object x , boolean z ) { ";
+      for (String ahead : new String[] {
+        "return x instanceof a", "return ! z instanceof a", "return 1 + 2 instanceof a", "return z && x instanceof a", "return z == x instanceof a",
+        "return 1 < x instanceof a", "return ( x instanceof a", "return b ( x instanceof a", "return z ? x instanceof a", "return z ? z : x instanceof a",
+        "return x instanceof b instanceof a", "z = x instanceof a", "if ( x instanceof Slip",
+      }) {
+        Door.faults(text + ahead + " @1 " + sign + " 1 ; } }");
+      }
+      // With ( ) round it, or as what is right of the sign, it is FORM alone.
+      Door.faults(text + "return ( x instanceof a ) @5 " + sign + " 1 ; } }");
+      Door.faults(text + "return x instanceof a == ( 1 @5 " + sign + " ( x instanceof a ) ) ; } }");
+      // What stands behind a looser sign may have one again.
+      Door.faults(text + "return x instanceof a && 1 " + sign + " 1 < 2 ; } }");
+      Door.faults(text + "return x instanceof a == 1 " + sign + " 1 < 2 ; } }");
+      Door.faults(text + "return x instanceof a ? 1 " + sign + " 1 < 2 : z ; } }");
+      Door.faults(text + "return b ( x instanceof a ? 1 : 1 " + sign + " 1 , z ) ; } }");
+    }
+    for (String sign : new String[] {"&&", "||", "==", "!="}) {
+      Door.faults("class a { boolean b ( Object x , boolean z ) { return x instanceof a " + sign + " z ; } }");
+    }
+    for (String sign : new String[] {"<", "<="}) {
+      Door.faults("class a { boolean b ( Object x , boolean z ) { return x instanceof a @5 " + sign + " 1 ; } }");
+    }
+    Door.faults("class a { boolean b ( Object x , boolean z ) { return x instanceof a @5 instanceof a ; } }");
+    for (String behind : new String[] {". k ;", "( ) ;", "a ;", "1 ;", "this ;", "! z ;"}) {
+      Door.faults("class a { boolean b ( Object x , boolean z ) { return x instanceof a @1 " + behind + " } }");
+    }
   }
 
   // ---- section 2: what a cast to a REF is known by

@@ -600,6 +600,7 @@ final class Reading {
         if (e.word.equals("instanceof")) {
           e.op = "instanceof";
           e.ref = ref();
+          if (bind(peek(0)) > bind("instanceof")) throw new Broken(pos);
         } else {
           e.parts.add(binary(bind(e.word) + 1));
         }

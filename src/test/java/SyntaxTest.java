@@ -35,7 +35,12 @@ public final class SyntaxTest {
     "CATCH : 'catch' '(' REF NAME ')' BLOCK",
     "EXPR : COND [ ( '=' | '+=' ) EXPR ]",
     "COND : BINARY [ '?' EXPR ':' COND ]",
-    "BINARY : UNARY { ( '||' | '&&' | '==' | '!=' | '<' | '<=' | '+' | '-' | '*' | 'div' | '%' ) UNARY | 'instanceof' REF }",
+    "BINARY : BOTH { '||' BOTH }",
+    "BOTH : SAME { '&&' SAME }",
+    "SAME : LESS { ( '==' | '!=' ) LESS }",
+    "LESS : SUM { ( '<' | '<=' ) SUM | 'instanceof' REF }",
+    "SUM : PRODUCT { ( '+' | '-' ) PRODUCT }",
+    "PRODUCT : UNARY { ( '*' | 'div' | '%' ) UNARY }",
     "UNARY : '-' UNARY | BEHIND_REF",
     "BEHIND_REF : '!' UNARY | '(' ( 'boolean' | 'byte' | 'int' | 'long' ) ')' UNARY | '(' REF ')' BEHIND_REF | POST",
     "POST : PRIMARY { '.' NAME [ ARGS ] }",
@@ -55,8 +60,8 @@ public final class SyntaxTest {
       read(rule.substring(0, colon), words, new int[1], "end");
     }
     int good = 0;
-    for (int round = 0; round < 500; round++) good += round(round % 5) ? 1 : 0;
-    Door.due("some texts are good, some are not", good > 40 && good < 460, true);
+    for (int round = 0; round < 800; round++) good += round(round % 5) ? 1 : 0;
+    Door.due("some texts are good, some are not", good > 60 && good < 740, true);
     Door.end();
   }
 
@@ -76,6 +81,7 @@ public final class SyntaxTest {
       else if (random(2) == 0) door.insert(0, to, token);
       else door.remove(0, to);
     }
+    if (random(3) == 0) askInstance(door);
     if (random(10) == 0) door.cut(0, 1 + random(60));
     int[] text = new int[door.ofUnit(0, 0)];
     for (int place = 0; place < text.length; place++) text[place] = door.token(0, place);
@@ -83,6 +89,21 @@ public final class SyntaxTest {
     int got = door.fault(0, 0, 0) == 1 ? door.fault(0, 0, 1) : -1;
     Door.due("fault of syntax in " + door.text(0), got, want);
     return want == -1;
+  }
+
+  /** Puts an instanceof and its REF behind what may be a UNARY. */
+  private static void askInstance(Sourcedoor door) {
+    int size = door.ofUnit(0, 0);
+    int to = random(size);
+    for (int k = 0; k < size && !isEnd(door.token(0, to)); k++) to = (to + 1) % size;
+    door.insert(0, to + 1, 32);
+    door.insert(0, to + 2, random(2) == 0 ? 57 : 100 + random(26));
+    if (random(2) == 0) door.insert(0, to + 3, 41 + random(16));
+    if (random(2) == 0) door.insert(0, to + 4, 1000);
+  }
+
+  private static boolean isEnd(int token) {
+    return token == 27 || token == 29 || token == 37 || token >= 100;
   }
 
   /** One of the alternatives of a rule after the other one; what stands in [ ], { } and ( ) becomes a rule of its own. */
